@@ -164,7 +164,7 @@ public final class StaveScore {
         if (!of.hasPitchAt(i)) {
             return done(TOLD_NO_PITCH);
         }
-        return done(soundOf(of, of.pitches[i]));
+        return done(of.voice.instrument.soundOf(of.pitches[i]) + raiseOf(of));
     }
 
     public int shift(int event, int by) {
@@ -740,18 +740,14 @@ public final class StaveScore {
         }
     }
 
-    private int soundOf(Event event, int pitch) {
-        return event.voice.instrument.soundOf(pitch) + OCTAVE_STEPS * octavesOver(event);
-    }
-
-    private int octavesOver(Event event) {
-        int over = 0;
+    private int raiseOf(Event event) {
+        int raise = 0;
         for (int i = 0; i < lineCount; i++) {
             if (lines[i] != null && lines[i].raises(event)) {
-                over++;
+                raise += OCTAVE_STEPS;
             }
         }
-        return over;
+        return raise;
     }
 
     // ---- times
@@ -963,8 +959,9 @@ public final class StaveScore {
 
     private boolean isOutOfRange(Event event) {
         Plain instrument = event.voice.instrument;
+        int raise = raiseOf(event);
         for (int i = 0; i < event.pitchCount; i++) {
-            int sound = soundOf(event, event.pitches[i]);
+            int sound = instrument.soundOf(event.pitches[i]) + raise;
             // The trace tells each asking: most is asked only where least does not decide.
             if (sound < instrument.least() || sound > instrument.most()) {
                 return true;

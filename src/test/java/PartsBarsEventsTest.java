@@ -408,9 +408,12 @@ public final class PartsBarsEventsTest {
         times(s, 4, 67, 98, 1, 1, 67, 98);
         s.untuplet(1);
         times(s, 4, 67, 56, 1, 1, 25, 56);
+        s.put(0, 5, 3, 60, 1, 0);
+        s.tuplet(0, 5, 1, 3, 2, 0);
+        times(s, 5, 123, 56, 1, 3, 0, 1);
         due.refused(s, "what", s.time(0, 6), StaveScore.BAD);
         due.refused(s, "what", s.time(0, -1), StaveScore.BAD);
-        due.refused(s, "no event", s.time(5, 0), StaveScore.BAD);
+        due.refused(s, "no event", s.time(6, 0), StaveScore.BAD);
     }
 
     private static void length() {

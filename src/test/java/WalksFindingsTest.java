@@ -18,6 +18,7 @@ public final class WalksFindingsTest {
         finding();
         equal();
         equalTuplets();
+        equalAmongOtherTuplets();
         due.finish();
     }
 
@@ -334,5 +335,22 @@ public final class WalksFindingsTest {
         s.untuplet(second - 1);
         s.tuplet(4, 2, 1, 3, 2, 2);
         due.is("in the same order", s.equal(0, 4), 1);
+    }
+
+    private static void equalAmongOtherTuplets() {
+        StaveScore s = withTwoAlike();
+        s.put(1, 0, 3, 0, 2, 0);
+        s.tuplet(0, 0, 1, 3, 2, 2);
+        s.tuplet(0, 1, 1, 5, 2, 2);
+        s.tuplet(1, 0, 1, 7, 2, 2);
+        s.tuplet(4, 0, 1, 3, 2, 2);
+        due.is("the second lacks", s.equal(0, 4), 0);
+        due.is("the second lacks", s.equal(4, 0), 0);
+        s.tuplet(4, 1, 1, 7, 2, 2);
+        due.is("the second is another", s.equal(0, 4), 0);
+        s.untuplet(4);
+        s.tuplet(4, 1, 1, 5, 2, 2);
+        due.is("a third voice's is not looked at", s.equal(0, 4), 1);
+        due.is("a third voice's is not looked at", s.equal(4, 0), 1);
     }
 }
