@@ -12,6 +12,7 @@ public final class WalksFindingsTest {
         checkRangeTrace();
         checkShortAndLong();
         checkSum();
+        checkSumAroundAnEarlierOne();
         checkLines();
         checkOrder();
         checkKeepsAHundred();
@@ -198,6 +199,21 @@ public final class WalksFindingsTest {
         findings(s, "less", SHORT, 0, -1, SUM, 2, -1);
         s.value(1, 1, 0);
         findings(s, "more", OVER, 1, 0, LONG, 0, -1, SUM, 2, -1);
+    }
+
+    private static void checkSumAroundAnEarlierOne() {
+        StaveScore s = plain();
+        s.bar(1, 2);
+        s.put(0, 0, 0, 60, 2, 0);
+        for (int i = 1; i < 4; i++) {
+            s.put(0, i, 0, 60, 3, 0);
+        }
+        s.put(0, 4, 0, 60, 2, 0);
+        s.tuplet(0, 1, 3, 3, 2, 3);
+        s.tuplet(0, 0, 5, 3, 2, 2);
+        findings(s, "the inner one came first");
+        s.untuplet(0);
+        findings(s, "without it", OVER, 4, 0, LONG, 0, -1, SUM, 1, -1);
     }
 
     private static void checkLines() {
