@@ -1,7 +1,8 @@
 /** Promises 1 to 17 at their bounds: parts, bars, events. */
 public final class PartsBarsEventsBoundaryTest {
     private static final int NONE = StaveScore.NONE, BAD = StaveScore.BAD, STATE = StaveScore.STATE, FULL = StaveScore.FULL;
-    private static final int NULL = StaveScore.NULL, INDEX = StaveScore.INDEX, CAST = StaveScore.CAST, SIZE = StaveScore.SIZE;
+    private static final int NULL = StaveScore.NULL, INDEX = StaveScore.INDEX, CAST = StaveScore.CAST,
+        SIZE = StaveScore.SIZE;
     /** Numbers of events that are not there, or gone, in Scores.RICH, which has had ten. */
     private static final String NO_EVENT = "-1 7 10 -2 150 MIN MAX";
     /** Scores.RICH has two parts. */
@@ -103,8 +104,8 @@ public final class PartsBarsEventsBoundaryTest {
     }
 
     private static void put() {
-        cases.about("Promise 4", "An EVENT comes into a VOICE, at a PLACE (0 .. how many are there; "
-            + "those from there on are one PLACE farther), not TIED: its number.");
+        cases.about("Promise 4", "An EVENT comes into a VOICE, at a PLACE (0 .. how many are there; those from there on "
+            + "are one PLACE farther), not TIED: its number.");
         for (int place = 0; place <= 6; place++) {
             cases.takes(RICH, "put(0, " + place + ", 0, 60, 2, 0)", 10);
         }
@@ -149,8 +150,8 @@ public final class PartsBarsEventsBoundaryTest {
 
     private static void putIsFull() {
         cases.about("Promise 4", "FULL: 150 ever, 40 there.");
-        String[] bad = {"put(-1, 0, 0, 60, 2, 0)", "put(0, -1, 0, 60, 2, 0)", "put(0, 41, 0, 60, 2, 0)", "put(0, 0, 5, 60, 2, 0)",
-            "put(0, 0, 0, 128, 2, 0)", "put(0, 0, 0, 60, 6, 0)", "put(0, 0, 0, 60, 2, 3)"};
+        String[] bad = {"put(-1, 0, 0, 60, 2, 0)", "put(0, -1, 0, 60, 2, 0)", "put(0, 41, 0, 60, 2, 0)",
+            "put(0, 0, 5, 60, 2, 0)", "put(0, 0, 0, 128, 2, 0)", "put(0, 0, 0, 60, 6, 0)", "put(0, 0, 0, 60, 2, 3)"};
         Score oneLess = Score.of("part(0)").with(39, i -> Scores.rest(0, i));
         cases.takes(oneLess, Scores.rest(0, 39), 39);
         cases.refuses(Scores.FULL_VOICE, FULL, Scores.rest(0, 0), Scores.rest(0, 20), Scores.rest(0, 40));
@@ -178,7 +179,8 @@ public final class PartsBarsEventsBoundaryTest {
         cases.takes(Scores.FULL_VOICE, "drop(39)", 39);
         cases.takes(Scores.FULL_EVENTS, "drop(149)", 29);
         Score emptied = Scores.notes(1).with("drop(0)");
-        cases.answers(emptied, "event(0, 0)", NONE, "length(0, 0)", 0, "length(0, 1)", 1, "count(2)", 0, "check()", 0, "walk()", 0);
+        cases.answers(emptied, "event(0, 0)", NONE, "length(0, 0)", 0, "length(0, 1)", 1, "count(2)", 0, "check()", 0,
+            "walk()", 0);
         cases.about("Promise 5", "those that end at it end nowhere. BAD.");
         cases.refuses(RICH, BAD, Call.each("drop(?)", NO_EVENT));
         cases.refuses(Scores.FULL_EVENTS, BAD, "drop(150)");
@@ -198,23 +200,25 @@ public final class PartsBarsEventsBoundaryTest {
         cases.takesAs(Scores.notes(2).with("tuplet(0, 1, 1, 3, 2, 2)"), "drop(1)", 1, "untuplet(0)", "drop(1)");
         Score nested = Scores.notes(3).with("tuplet(0, 0, 3, 3, 2, 2)", "tuplet(0, 0, 1, 5, 4, 2)");
         cases.answers(nested.with("drop(0)"), "tupletAt(0, 2)", 2, "tupletAt(1, 2)", BAD, "at(1, 5)", 1, "count(4)", 1);
-        cases.answers(nested.with("drop(1)", "drop(2)", "drop(0)"), "tupletAt(0, 2)", BAD, "tupletAt(1, 2)", BAD, "count(4)", 0);
+        cases.answers(nested.with("drop(1)", "drop(2)", "drop(0)"), "tupletAt(0, 2)", BAD, "tupletAt(1, 2)", BAD,
+            "count(4)", 0);
     }
 
     private static void dropFromLines() {
         cases.about("Promise 5", "LINES that begin at it are gone, those that end at it end nowhere.");
-        Score lines = Scores.notes(3).with("line(0, 0, 1)", "line(1, 1, 0)", "line(2, 0, 0)", "line(3, 1, 2)", "line(0, 0, NONE)");
+        Score lines = Scores.notes(3).with("line(0, 0, 1)", "line(1, 1, 0)", "line(2, 0, 0)", "line(3, 1, 2)",
+            "line(0, 0, NONE)");
         Score then = lines.with("drop(0)");
-        cases.answers(then, "lineAt(0, 0)", BAD, "lineAt(1, 0)", 1, "lineAt(1, 1)", 1, "lineAt(1, 2)", NONE, "lineAt(2, 0)", BAD,
-            "lineAt(3, 2)", 2, "lineAt(4, 0)", BAD, "count(5)", 2);
+        cases.answers(then, "lineAt(0, 0)", BAD, "lineAt(1, 0)", 1, "lineAt(1, 1)", 1, "lineAt(1, 2)", NONE,
+            "lineAt(2, 0)", BAD, "lineAt(3, 2)", 2, "lineAt(4, 0)", BAD, "count(5)", 2);
         cases.refuses(then, BAD, "end(0, 1)", "end(2, NONE)", "end(4, NONE)");
         cases.answers(then, "line(0, 1, 2)", 5);
     }
 
     private static void dropFromRacks() {
         cases.about("Promise 5", "An EVENT leaves its VOICE, RACKS, and is gone");
-        Score racks = Scores.notes(2).with("rack(0, 5, 20)", "rack(3, 0, 2)", "hold(0, 0, 0)", "hold(0, 19, 0)", "hold(0, 5, 1)",
-            "hold(3, 0, 1)", "hold(3, 1, 0)");
+        Score racks = Scores.notes(2).with("rack(0, 5, 20)", "rack(3, 0, 2)", "hold(0, 0, 0)", "hold(0, 19, 0)",
+            "hold(0, 5, 1)", "hold(3, 0, 1)", "hold(3, 1, 0)");
         cases.takesAs(racks, "drop(0)", 0, "hold(0, 0, NONE)", "hold(0, 19, NONE)", "hold(3, 1, NONE)", "drop(0)");
         cases.answers(racks.with("drop(0)"), "held(0, 0)", NULL, "held(0, 19)", NULL, "held(3, 1)", NULL, "held(0, 5)", 1,
             "held(3, 0)", 1);
@@ -228,7 +232,8 @@ public final class PartsBarsEventsBoundaryTest {
         cases.refuses(RICH, STATE, "chord(1, 65)", "chord(1, 64)", "chord(1, 62)", "chord(1, 0)");
         cases.takes(RICH, "chord(1, 66)", 3);
         cases.takes(RICH, "chord(1, 127)", 3);
-        cases.answers(RICH.with("chord(1, 127)"), "pitch(1, 1)", 65, "pitch(1, 2)", 127, "chord(1, 127)", STATE, "chord(1, 128)", BAD);
+        cases.answers(RICH.with("chord(1, 127)"), "pitch(1, 1)", 65, "pitch(1, 2)", 127, "chord(1, 127)", STATE,
+            "chord(1, 128)", BAD);
         Score five = RICH.with("chord(1, 66)", "chord(1, 67)", "chord(1, 68)");
         cases.takes(five, "chord(1, 69)", 6);
         Score six = five.with("chord(1, 69)");
@@ -265,7 +270,8 @@ public final class PartsBarsEventsBoundaryTest {
     }
 
     private static void heard() {
-        cases.about("Promise 8", "Its pitch i as it is HEARD (OCTAVES, too); -1000: none such. BAD; CAST (told as -2000, -2001).");
+        cases.about("Promise 8", "Its pitch i as it is HEARD (OCTAVES, too); -1000: none such. BAD; CAST (told as -2000, "
+            + "-2001).");
         cases.takesAs(RICH, "heard(0, 0)", 60 - 19 + 12, "asks(0, 0, 0)");
         cases.takesAs(RICH, "heard(1, 1)", 65 - 19 + 12, "asks(0, 0, 0)");
         cases.takesAs(RICH, "heard(2, 0)", 64 - 19, "asks(0, 0, 0)");
@@ -277,7 +283,8 @@ public final class PartsBarsEventsBoundaryTest {
         cases.refuses(RICH, CAST, "heard(3, 0)", "heard(4, 0)", "heard(3, -1)", "heard(4, MAX)");
         Score lowest = Score.of("part(4)", "put(0, 0, 0, 0, 2, 0)");
         cases.takes(lowest, "heard(0, 0)", -19);
-        cases.takes(Score.of("part(0)", Scores.note(0, 0, 127)).with(30, i -> "line(2, 0, 0)"), "heard(0, 0)", 127 + 30 * 12);
+        cases.takes(Score.of("part(0)", Scores.note(0, 0, 127)).with(30, i -> "line(2, 0, 0)"),
+            "heard(0, 0)", 127 + 30 * 12);
     }
 
     private static void shift() {
@@ -319,8 +326,8 @@ public final class PartsBarsEventsBoundaryTest {
     }
 
     private static void transposeEnds() {
-        cases.about("Promise 10", "up to the first that cannot be (INDEX, told by status(); those ahead of it stay shifted): "
-            + "how many NOTES were. BAD.");
+        cases.about("Promise 10", "up to the first that cannot be (INDEX, told by status(); those ahead of it stay "
+            + "shifted): how many NOTES were. BAD.");
         cases.ends(RICH, INDEX, "transpose(0, 63)", 1, "shift(0, 63)");
         cases.ends(RICH, INDEX, "transpose(0, -61)", 0);
         cases.ends(RICH, INDEX, "transpose(0, MIN)", 0);
@@ -370,8 +377,8 @@ public final class PartsBarsEventsBoundaryTest {
     }
 
     private static void at() {
-        cases.about("Promise 13", "Of an EVENT: 0 VOICE, 1 PLACE, 2 KIND, 3 how many pitches, 4 whether it is TIED, "
-            + "5 in how many TUPLETS it lies, 6 the BAR in which it BEGINS (NONE), 7 VALUE, 8 DOTS. BAD.");
+        cases.about("Promise 13", "Of an EVENT: 0 VOICE, 1 PLACE, 2 KIND, 3 how many pitches, 4 whether it is TIED, 5 in "
+            + "how many TUPLETS it lies, 6 the BAR in which it BEGINS (NONE), 7 VALUE, 8 DOTS. BAD.");
         int[][] want = {{0, 0, 0, 1, 0, 1, 0, 2, 0}, {0, 1, 1, 2, 0, 2, 0, 3, 1}, {0, 2, 2, 1, 0, 2, 0, 3, 0},
             {0, 3, 3, 0, 0, 1, 0, 2, 2}, {0, 4, 4, 0, 0, 0, 0, 0, 0}, {0, 5, 0, 1, 1, 0, 0, 1, 0}};
         for (int event = 0; event < want.length; event++) {
@@ -393,14 +400,15 @@ public final class PartsBarsEventsBoundaryTest {
         cases.takes(Scores.notes(2).with("bar(1, 4)"), "at(1, 6)", NONE);
         cases.takes(Scores.notes(2).with("bar(1, 4)", "bar(1, 32)"), "at(1, 6)", 1);
         Score quarters = Scores.FULL_BARS.with(26, i -> Scores.note(0, i, 60));
-        cases.answers(quarters, "at(0, 6)", 0, "at(1, 6)", 1, "at(22, 6)", 22, "at(23, 6)", 23, "at(24, 6)", NONE, "at(25, 6)", NONE);
+        cases.answers(quarters, "at(0, 6)", 0, "at(1, 6)", 1, "at(22, 6)", 22, "at(23, 6)", 23, "at(24, 6)", NONE,
+            "at(25, 6)", NONE);
         Score graceAtTheEnd = Scores.notes(1).with("bar(1, 4)", "put(0, 1, 2, 60, 2, 0)", "put(0, 0, 4, 60, 2, 0)");
         cases.answers(graceAtTheEnd, "at(1, 6)", NONE, "at(2, 6)", 0);
     }
 
     private static void time() {
-        cases.about("Promise 14", "Of an EVENT: 0, 1 UP and DOWN of where it BEGINS, 2, 3 of its TIME, "
-            + "4, 5 of where it BEGINS, less where the BAR does (0, 1 where there is none). BAD.");
+        cases.about("Promise 14", "Of an EVENT: 0, 1 UP and DOWN of where it BEGINS, 2, 3 of its TIME, 4, 5 of where it "
+            + "BEGINS, less where the BAR does (0, 1 where there is none). BAD.");
         Score s = Score.of("part(0)", "bar(3, 4)", "bar(1, 2)", "put(0, 0, 0, 60, 0, 0)", "put(0, 1, 2, 60, 0, 2)",
             "put(0, 2, 0, 60, 2, 0)", "put(0, 3, 3, 0, 5, 2)");
         long[][] want = {{0, 1, 1, 1, 0, 1}, {1, 1, 0, 1, 1, 4}, {1, 1, 1, 4, 1, 4}, {5, 4, 7, 128, 0, 1}};
@@ -422,7 +430,8 @@ public final class PartsBarsEventsBoundaryTest {
         cases.takesAs(RICH, "length(5, 1)", 1);
         cases.takesAs(RICH, "length(4, 0)", 3);
         cases.takesAs(RICH, "length(4, 1)", 4);
-        cases.answers(Score.of("part(0)", "put(0, 0, 2, 60, 0, 0)", "put(0, 1, 4, 60, 0, 0)"), "length(0, 0)", 0, "length(0, 1)", 1);
+        cases.answers(Score.of("part(0)", "put(0, 0, 2, 60, 0, 0)", "put(0, 1, 4, 60, 0, 0)"), "length(0, 0)", 0,
+            "length(0, 1)", 1);
         Score longest = Score.of("part(0)").with(40, i -> "put(0, " + i + ", 3, 0, 0, 2)").with("tuplet(0, 0, 40, 3, 8, 0)",
             "tuplet(0, 0, 40, 3, 8, 0)");
         cases.answers(longest, "length(0, 0)", 4480, "length(0, 1)", 9);
@@ -440,13 +449,15 @@ public final class PartsBarsEventsBoundaryTest {
             cases.takesAs(RICH, call, NONE);
         }
         cases.takes(RICH, "event(5, 0)", NONE);
-        cases.answers(Scores.FULL_EVENTS, "event(0, 39)", 39, "event(0, 40)", NONE, "event(3, 29)", 149, "event(3, 30)", NONE);
+        cases.answers(Scores.FULL_EVENTS, "event(0, 39)", 39, "event(0, 40)", NONE, "event(3, 29)", 149,
+            "event(3, 30)", NONE);
         cases.refuses(RICH, BAD, Call.each("event(?, 0)", NO_VOICE));
         cases.refuses(RICH, BAD, Call.each("event(?, -1)", NO_VOICE));
     }
 
     private static void asks() {
-        cases.about("Promise 17", "By a PART's KIND, of a pitch (any number): what is HEARD (0), LEAST (1), MOST (2). BAD (told as -2000).");
+        cases.about("Promise 17", "By a PART's KIND, of a pitch (any number): what is HEARD (0), LEAST (1), MOST (2). BAD "
+            + "(told as -2000).");
         int[] heardOf0 = {0, -12, 0, -7, -19, 35};
         int[] least = {21, 21, 28, 28, 23, 21};
         int[] most = {108, 108, 82, 82, 82, 108};
@@ -467,10 +478,11 @@ public final class PartsBarsEventsBoundaryTest {
         cases.about("Promise 17", "of a pitch (any number)");
         int min = Integer.MIN_VALUE;
         int max = Integer.MAX_VALUE;
-        cases.answers(Scores.FULL_PARTS, "asks(0, 0, MIN)", min, "asks(0, 0, MAX)", max, "asks(2, 0, MIN)", min, "asks(2, 0, MAX)", max,
-            "asks(1, 0, MAX)", max - 12, "asks(3, 0, MAX)", max - 7, "asks(4, 0, MAX)", max - 19,
+        cases.answers(Scores.FULL_PARTS, "asks(0, 0, MIN)", min, "asks(0, 0, MAX)", max, "asks(2, 0, MIN)", min,
+            "asks(2, 0, MAX)", max, "asks(1, 0, MAX)", max - 12, "asks(3, 0, MAX)", max - 7, "asks(4, 0, MAX)", max - 19,
             "asks(5, 0, MIN)", 35, "asks(5, 0, MAX)", 35);
         // The answer is an int: where it is less than the least one, it wraps around.
-        cases.answers(Scores.FULL_PARTS, "asks(1, 0, MIN)", max - 11, "asks(3, 0, MIN)", max - 6, "asks(4, 0, MIN)", max - 18);
+        cases.answers(Scores.FULL_PARTS, "asks(1, 0, MIN)", max - 11, "asks(3, 0, MIN)", max - 6,
+            "asks(4, 0, MIN)", max - 18);
     }
 }

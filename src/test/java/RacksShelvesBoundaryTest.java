@@ -42,9 +42,10 @@ public final class RacksShelvesBoundaryTest {
                 cases.takes(RICH, "rack(" + rack + ", " + kind + ", 20)", 1);
                 cases.takes(RICH, "rack(" + rack + ", " + kind + ", 0)", 1);
             }
-            cases.answers(RICH.with("rack(" + rack + ", 5, 20)"), "hold(" + rack + ", 19, 0)", 1, "held(" + rack + ", 19)", 0,
-                "hold(" + rack + ", 20, 0)", INDEX);
-            cases.answers(RICH.with("rack(" + rack + ", 5, 1)"), "hold(" + rack + ", 0, 0)", 1, "hold(" + rack + ", 1, 0)", INDEX);
+            cases.answers(RICH.with("rack(" + rack + ", 5, 20)"), "hold(" + rack + ", 19, 0)", 1,
+                "held(" + rack + ", 19)", 0, "hold(" + rack + ", 20, 0)", INDEX);
+            cases.answers(RICH.with("rack(" + rack + ", 5, 1)"), "hold(" + rack + ", 0, 0)", 1,
+                "hold(" + rack + ", 1, 0)", INDEX);
             cases.answers(RICH.with("rack(" + rack + ", 5, 0)"), "hold(" + rack + ", 0, 0)", INDEX);
         }
     }
@@ -52,7 +53,8 @@ public final class RacksShelvesBoundaryTest {
     private static void rackIsNew() {
         cases.about("Terms", "At first there is no ROW; a new one has nothing, 0 each, in it.");
         for (int row = 0; row <= 3; row++) {
-            cases.answers(Score.of(), "held(" + row + ", 0)", NULL, "item(" + row + ", 0)", -2001, "hold(" + row + ", 0, -1)", NULL);
+            cases.answers(Score.of(), "held(" + row + ", 0)", NULL, "item(" + row + ", 0)", -2001,
+                "hold(" + row + ", 0, -1)", NULL);
             for (int i = 0; i < 20; i++) {
                 cases.answers(RICH.with("rack(" + row + ", 5, 20)"), "held(" + row + ", " + i + ")", NULL);
             }
@@ -60,7 +62,8 @@ public final class RacksShelvesBoundaryTest {
                 cases.answers(RICH.with("shelf(" + row + ", 3, 60)"), "item(" + row + ", " + i + ")", 0);
             }
         }
-        cases.answers(RICH.with("rack(0, 5, 3)"), "held(0, 0)", NULL, "held(0, 1)", NULL, "held(0, 2)", NULL, "held(2, 0)", 4);
+        cases.answers(RICH.with("rack(0, 5, 3)"), "held(0, 0)", NULL, "held(0, 1)", NULL, "held(0, 2)", NULL,
+            "held(2, 0)", 4);
         cases.answers(RICH.with("shelf(0, 0, 3)"), "item(0, 0)", 0, "item(0, 1)", 0, "item(0, 2)", 0, "item(2, 1)", 40000);
     }
 
@@ -81,7 +84,8 @@ public final class RacksShelvesBoundaryTest {
         cases.takesAs(RICH, "hold(0, 0, 1)", 1);
         cases.takes(RICH, "hold(0, 0, 9)", 1);
         cases.takes(RICH, "hold(0, 2, 0)", 1);
-        cases.answers(RICH, "hold(0, 0, 9)", 1, "held(0, 0)", 9, "held(0, 1)", NULL, "held(0, 2)", 3, "hold(0, 0, NONE)", 1, "held(0, 0)", NULL);
+        cases.answers(RICH, "hold(0, 0, 9)", 1, "held(0, 0)", 9, "held(0, 1)", NULL, "held(0, 2)", 3, "hold(0, 0, NONE)", 1,
+            "held(0, 0)", NULL);
         cases.takesAs(RICH, "hold(0, 1, NONE)", 1);
         cases.takes(RICH, "hold(2, 0, NONE)", 1);
         cases.answers(RICH.with("hold(0, 1, 1)"), "held(0, 0)", 1, "held(0, 1)", 1);
@@ -161,14 +165,14 @@ public final class RacksShelvesBoundaryTest {
         cases.about("Promise 32", "BAD; NULL; INDEX: they are not there, or n is below 0.");
         cases.refuses(RICH, BAD, Call.each("slide(?, 0, 0, 1)", NO_ROW_NUMBER));
         cases.refuses(RICH, BAD, Call.each("slide(?, -1, -1, -1)", NO_ROW_NUMBER));
-        cases.refuses(RICH, NULL, "slide(3, 0, 0, 0)", "slide(3, 0, 0, 1)", "slide(3, -1, 0, 1)", "slide(3, 0, -1, 1)", "slide(3, 0, 0, -1)",
-            "slide(3, MAX, MAX, MAX)");
+        cases.refuses(RICH, NULL, "slide(3, 0, 0, 0)", "slide(3, 0, 0, 1)", "slide(3, -1, 0, 1)", "slide(3, 0, -1, 1)",
+            "slide(3, 0, 0, -1)", "slide(3, MAX, MAX, MAX)");
         cases.refuses(RICH, INDEX, Call.each("slide(0, 0, 0, ?)", "4 -1 MIN MAX"));
         cases.refuses(RICH, INDEX, Call.each("slide(0, ?, 0, 1)", "-1 3 MIN MAX"));
         cases.refuses(RICH, INDEX, Call.each("slide(0, 0, ?, 1)", "-1 3 MIN MAX"));
-        cases.refuses(RICH, INDEX, "slide(0, 1, 0, 3)", "slide(0, 0, 1, 3)", "slide(0, 2, 0, 2)", "slide(0, 0, 2, 2)", "slide(1, 0, 0, 1)",
-            "slide(0, MAX, 0, MAX)", "slide(0, 0, MAX, MAX)", "slide(0, 1, 1, MAX)", "slide(0, MIN, 0, MAX)", "slide(0, 1, 1, MIN)",
-            "slide(0, 1, 1, -1)");
+        cases.refuses(RICH, INDEX, "slide(0, 1, 0, 3)", "slide(0, 0, 1, 3)", "slide(0, 2, 0, 2)", "slide(0, 0, 2, 2)",
+            "slide(1, 0, 0, 1)", "slide(0, MAX, 0, MAX)", "slide(0, 0, MAX, MAX)", "slide(0, 1, 1, MAX)",
+            "slide(0, MIN, 0, MAX)", "slide(0, 1, 1, MIN)", "slide(0, 1, 1, -1)");
     }
 
     private static void shelf() {
@@ -178,9 +182,10 @@ public final class RacksShelvesBoundaryTest {
                 cases.takes(RICH, "shelf(" + shelf + ", " + kind + ", 60)", 1);
                 cases.takes(RICH, "shelf(" + shelf + ", " + kind + ", 0)", 1);
             }
-            cases.answers(RICH.with("shelf(" + shelf + ", 0, 60)"), "lift(" + shelf + ", 59, 7)", 1, "item(" + shelf + ", 59)", 7,
-                "item(" + shelf + ", 60)", -2002);
-            cases.answers(RICH.with("shelf(" + shelf + ", 0, 1)"), "item(" + shelf + ", 0)", 0, "item(" + shelf + ", 1)", -2002);
+            cases.answers(RICH.with("shelf(" + shelf + ", 0, 60)"), "lift(" + shelf + ", 59, 7)", 1,
+                "item(" + shelf + ", 59)", 7, "item(" + shelf + ", 60)", -2002);
+            cases.answers(RICH.with("shelf(" + shelf + ", 0, 1)"), "item(" + shelf + ", 0)", 0,
+                "item(" + shelf + ", 1)", -2002);
             cases.answers(RICH.with("shelf(" + shelf + ", 0, 0)"), "item(" + shelf + ", 0)", -2002);
         }
     }
@@ -197,14 +202,15 @@ public final class RacksShelvesBoundaryTest {
     }
 
     private static void layOfVoice() {
-        cases.about("Promise 34", "First pitches of the EVENTS of a VOICE (of a RACK's EVENTS, if rack; from its first place on) come to a SHELF, "
-            + "from its place on: how many.");
+        cases.about("Promise 34", "First pitches of the EVENTS of a VOICE (of a RACK's EVENTS, if rack; from its first "
+            + "place on) come to a SHELF, from its place on: how many.");
         cases.ends(RICH, CAST, "lay(0, false, 0, 0)", 3, "lift(0, 0, 60)", "lift(0, 1, 62)", "lift(0, 2, 64)");
         cases.takesAs(RICH, "lay(4, false, 0, 0)", 2, "lift(0, 0, 100)", "lift(0, 1, 30)");
         cases.takesAs(RICH, "lay(4, false, 0, 1)", 2, "lift(0, 1, 100)", "lift(0, 2, 30)");
         cases.takesAs(RICH, "lay(4, false, 2, 0)", 2, "lift(2, 0, 100)", "lift(2, 1, 30)");
-        cases.about("Promise 34", "It ends, with those ahead laid, and tells so by status(): at NULL: the RACK has no ROW; then for each by: "
-            + "NULL (an empty place), CAST (a REST), NULL (the SHELF has no ROW), INDEX (it has no such place).");
+        cases.about("Promise 34", "It ends, with those ahead laid, and tells so by status(): at NULL: the RACK has no "
+            + "ROW; then for each by: NULL (an empty place), CAST (a REST), NULL (the SHELF has no ROW), INDEX (it has no "
+            + "such place).");
         cases.ends(RICH, INDEX, "lay(4, false, 0, 2)", 1, "lift(0, 2, 100)");
         cases.ends(RICH, INDEX, "lay(0, false, 0, 1)", 2, "lift(0, 1, 60)", "lift(0, 2, 62)");
         cases.ends(RICH, INDEX, "lay(4, false, 1, 0)", 0);
@@ -308,14 +314,19 @@ public final class RacksShelvesBoundaryTest {
                 cases.answers(shelf.with("lift(3, 0, " + x + ")"), "item(3, 0)", kept[kind]);
             }
         }
-        cases.answers(Score.of("shelf(0, 0, 1)"), "lift(0, 0, 128)", 1, "item(0, 0)", -128, "lift(0, 0, -129)", 1, "item(0, 0)", 127);
-        cases.answers(Score.of("shelf(0, 1, 1)"), "lift(0, 0, 32768)", 1, "item(0, 0)", -32768, "lift(0, 0, -32769)", 1, "item(0, 0)", 32767);
-        cases.answers(Score.of("shelf(0, 2, 1)"), "lift(0, 0, 65536)", 1, "item(0, 0)", 0, "lift(0, 0, -1)", 1, "item(0, 0)", 65535);
-        cases.answers(Score.of("shelf(0, 3, 1)"), "lift(0, 0, MIN)", 1, "item(0, 0)", MIN, "lift(0, 0, MAX)", 1, "item(0, 0)", MAX);
+        cases.answers(Score.of("shelf(0, 0, 1)"), "lift(0, 0, 128)", 1, "item(0, 0)", -128, "lift(0, 0, -129)", 1,
+            "item(0, 0)", 127);
+        cases.answers(Score.of("shelf(0, 1, 1)"), "lift(0, 0, 32768)", 1, "item(0, 0)", -32768, "lift(0, 0, -32769)", 1,
+            "item(0, 0)", 32767);
+        cases.answers(Score.of("shelf(0, 2, 1)"), "lift(0, 0, 65536)", 1, "item(0, 0)", 0, "lift(0, 0, -1)", 1,
+            "item(0, 0)", 65535);
+        cases.answers(Score.of("shelf(0, 3, 1)"), "lift(0, 0, MIN)", 1, "item(0, 0)", MIN, "lift(0, 0, MAX)", 1,
+            "item(0, 0)", MAX);
     }
 
     private static void copy() {
-        cases.about("Promise 37", "n pitches of a SHELF, from i on, come to another one (or the same), from j on, as they were: n.");
+        cases.about("Promise 37", "n pitches of a SHELF, from i on, come to another one (or the same), from j on, as they "
+            + "were: n.");
         Score two = Score.of("shelf(0, 3, 5)", "shelf(3, 3, 3)").with(5, i -> "lift(0, " + i + ", " + (i + 1) + ")");
         for (int i = 0; i <= 5; i++) {
             for (int j = 0; j <= 5; j++) {
@@ -329,9 +340,11 @@ public final class RacksShelvesBoundaryTest {
         }
         copies(two, 2, 3, 0, 3);
         for (int kind = 0; kind <= 3; kind++) {
-            Score full = Score.of("shelf(1, " + kind + ", 60)", "shelf(2, " + kind + ", 60)", "lift(1, 0, -3)", "lift(1, 59, 9)");
+            Score full = Score.of("shelf(1, " + kind + ", 60)", "shelf(2, " + kind + ", 60)", "lift(1, 0, -3)",
+                "lift(1, 59, 9)");
             cases.takes(full, "copy(1, 0, 2, 0, 60)", 60);
-            cases.answers(full.with("copy(1, 0, 2, 0, 60)"), "item(2, 0)", kind == 2 ? 65533 : -3, "item(2, 59)", 9, "item(2, 30)", 0);
+            cases.answers(full.with("copy(1, 0, 2, 0, 60)"), "item(2, 0)", kind == 2 ? 65533 : -3, "item(2, 59)", 9,
+                "item(2, 30)", 0);
             cases.refuses(full, INDEX, "copy(1, 0, 2, 0, 61)", "copy(1, 1, 2, 0, 60)", "copy(1, 0, 2, 1, 60)");
         }
         cases.takesAs(RICH, "copy(0, 0, 0, 0, 0)", 0);
@@ -350,22 +363,24 @@ public final class RacksShelvesBoundaryTest {
     }
 
     private static void copyIsRefused() {
-        cases.about("Promise 37", "BAD; NULL: of the first, then of the other one; CAST: of another KIND; INDEX: they are not there, or n is below 0.");
+        cases.about("Promise 37", "BAD; NULL: of the first, then of the other one; CAST: of another KIND; INDEX: they are "
+            + "not there, or n is below 0.");
         cases.refuses(RICH, BAD, Call.each("copy(?, 0, 0, 0, 1)", NO_ROW_NUMBER));
         cases.refuses(RICH, BAD, Call.each("copy(0, 0, ?, 0, 1)", NO_ROW_NUMBER));
         cases.refuses(RICH, BAD, Call.each("copy(3, 0, ?, 0, 1)", NO_ROW_NUMBER));
         cases.refuses(RICH, BAD, Call.each("copy(?, -1, 3, 0, -1)", NO_ROW_NUMBER));
-        cases.refuses(RICH, NULL, "copy(3, 0, 0, 0, 1)", "copy(0, 0, 3, 0, 1)", "copy(3, 0, 3, 0, 1)", "copy(3, 0, 3, 0, 0)", "copy(0, 9, 3, 0, -1)",
-            "copy(3, MIN, 0, MAX, MIN)");
-        cases.refuses(RICH, CAST, "copy(0, 0, 2, 0, 1)", "copy(2, 0, 0, 0, 1)", "copy(0, 0, 1, 0, 0)", "copy(0, 9, 2, 0, 1)", "copy(0, 0, 2, -1, 1)",
-            "copy(2, 0, 0, 0, -1)", "copy(0, MAX, 1, MIN, MIN)");
+        cases.refuses(RICH, NULL, "copy(3, 0, 0, 0, 1)", "copy(0, 0, 3, 0, 1)", "copy(3, 0, 3, 0, 1)",
+            "copy(3, 0, 3, 0, 0)", "copy(0, 9, 3, 0, -1)", "copy(3, MIN, 0, MAX, MIN)");
+        cases.refuses(RICH, CAST, "copy(0, 0, 2, 0, 1)", "copy(2, 0, 0, 0, 1)", "copy(0, 0, 1, 0, 0)",
+            "copy(0, 9, 2, 0, 1)", "copy(0, 0, 2, -1, 1)", "copy(2, 0, 0, 0, -1)", "copy(0, MAX, 1, MIN, MIN)");
         Score ints = RICH.with("shelf(3, 0, 2)");
         cases.refuses(ints, INDEX, Call.each("copy(0, 0, 3, 0, ?)", "3 4 -1 MIN MAX"));
         cases.refuses(ints, INDEX, Call.each("copy(3, 0, 0, 0, ?)", "3 4 -1 MIN MAX"));
         cases.refuses(ints, INDEX, Call.each("copy(0, ?, 3, 0, 1)", "-1 3 MIN MAX"));
         cases.refuses(ints, INDEX, Call.each("copy(0, 0, 3, ?, 1)", "-1 2 MIN MAX"));
-        cases.refuses(ints, INDEX, "copy(0, 2, 3, 0, 2)", "copy(0, 0, 3, 1, 2)", "copy(0, MAX, 3, 0, MAX)", "copy(0, 0, 3, MAX, MAX)",
-            "copy(0, 1, 0, 1, MAX)", "copy(0, 0, 0, 1, 3)", "copy(0, MIN, 3, MIN, MIN)", "copy(1, 0, 1, 0, 1)");
+        cases.refuses(ints, INDEX, "copy(0, 2, 3, 0, 2)", "copy(0, 0, 3, 1, 2)", "copy(0, MAX, 3, 0, MAX)",
+            "copy(0, 0, 3, MAX, MAX)", "copy(0, 1, 0, 1, MAX)", "copy(0, 0, 0, 1, 3)", "copy(0, MIN, 3, MIN, MIN)",
+            "copy(1, 0, 1, 0, 1)");
         for (int kind = 0; kind <= 3; kind++) {
             for (int other = 0; other <= 3; other++) {
                 Score rows = Score.of("shelf(0, " + kind + ", 2)", "shelf(1, " + other + ", 2)");
@@ -379,15 +394,17 @@ public final class RacksShelvesBoundaryTest {
     }
 
     private static void play() {
-        cases.about("Promise 38", "The NOTES of a VOICE, by PLACES, are shifted so that their lowest pitches become those of a SHELF from its first on, "
-            + "one by one: how many were.");
+        cases.about("Promise 38", "The NOTES of a VOICE, by PLACES, are shifted so that their lowest pitches become those "
+            + "of a SHELF from its first on, one by one: how many were.");
         Score four = RICH.with("shelf(3, 1, 4)", "lift(3, 0, 0)", "lift(3, 1, 124)", "lift(3, 2, 127)", "lift(3, 3, 64)");
         cases.takesAs(four, "play(3, 0)", 4, "shift(0, -60)", "shift(1, 62)", "shift(2, 63)", "shift(5, -1)");
-        cases.answers(four.with("play(3, 0)"), "pitch(0, 0)", 0, "pitch(1, 0)", 124, "pitch(1, 1)", 127, "pitch(2, 0)", 127, "pitch(5, 0)", 64);
+        cases.answers(four.with("play(3, 0)"), "pitch(0, 0)", 0, "pitch(1, 0)", 124, "pitch(1, 1)", 127, "pitch(2, 0)", 127,
+            "pitch(5, 0)", 64);
         cases.takesAs(four, "play(3, 4)", 2, "shift(6, -100)", "shift(8, 94)");
         cases.takesAs(four.with("shelf(3, 0, 1)", "lift(3, 0, 70)"), "play(3, 1)", 1);
         cases.about("Promise 38", "RESTS are passed over. BAD.");
-        Score rests = Score.of("part(0)", "shelf(0, 0, 1)", "lift(0, 0, 5)", Scores.rest(0, 0), "put(0, 1, 4, 0, 2, 0)", Scores.note(0, 2, 60), Scores.rest(0, 3));
+        Score rests = Score.of("part(0)", "shelf(0, 0, 1)", "lift(0, 0, 5)", Scores.rest(0, 0), "put(0, 1, 4, 0, 2, 0)",
+            Scores.note(0, 2, 60), Scores.rest(0, 3));
         cases.takesAs(rests, "play(0, 0)", 1, "shift(2, -55)");
         cases.takesAs(rests.with("drop(2)", "shelf(0, 0, 0)"), "play(0, 0)", 0);
         cases.takesAs(RICH, "play(1, 2)", 0);
@@ -400,7 +417,8 @@ public final class RacksShelvesBoundaryTest {
     }
 
     private static void playEnds() {
-        cases.about("Promise 38", "It ends, with those ahead done, and tells so by status(): at NULL (no ROW), INDEX (the SHELF has no more; a pitch would be none).");
+        cases.about("Promise 38", "It ends, with those ahead done, and tells so by status(): at NULL (no ROW), INDEX (the "
+            + "SHELF has no more; a pitch would be none).");
         cases.ends(RICH, NULL, "play(3, 0)", 0);
         cases.ends(RICH, NULL, "play(3, 4)", 0);
         cases.ends(RICH, INDEX, "play(1, 0)", 0);
@@ -420,7 +438,8 @@ public final class RacksShelvesBoundaryTest {
         cases.about("Promise 38", "(the SHELF has no more; a pitch would be none)");
         String[] none = {"-1 -128", "-1 128 -32768 32767", "128 32768 65535", "-1 128 MIN MAX"};
         for (int kind = 0; kind <= 3; kind++) {
-            Score shelf = Score.of("part(0)", Scores.note(0, 0, 60), Scores.note(1, 0, 127), Scores.note(2, 0, 0), "shelf(0, " + kind + ", 1)");
+            Score shelf = Score.of("part(0)", Scores.note(0, 0, 60), Scores.note(1, 0, 127), Scores.note(2, 0, 0),
+                "shelf(0, " + kind + ", 1)");
             for (String lift : Call.each("lift(0, 0, ?)", none[kind])) {
                 cases.ends(shelf.with(lift), INDEX, "play(0, 0)", 0);
                 cases.ends(shelf.with(lift), INDEX, "play(0, 1)", 0);

@@ -19,7 +19,8 @@ final class Scores {
             "rack(3, 0, -1)", "rack(3, 0, -1)", "rack(3, 0, -1)", "rack(3, 0, -1)", "rack(3, 0, -1)");
 
     /** One event of each KIND in voice 0, as long as a quarter; its number is its KIND. */
-    static final Score KINDS = Score.of("part(0)").with(5, kind -> "put(0, " + kind + ", " + kind + ", " + (60 + kind) + ", 2, 0)");
+    static final Score KINDS = Score.of("part(0)")
+        .with(5, kind -> "put(0, " + kind + ", " + kind + ", " + (60 + kind) + ", 2, 0)");
 
     static final Score FULL_PARTS = Score.of().with(6, kind -> "part(" + kind + ")");
 
@@ -32,7 +33,8 @@ final class Scores {
     static final Score FULL_EVENTS = Score.of("part(0)", "part(0)").with(150, i -> rest(i / 40, i % 40));
 
     /** Each of the first 20 events of voice 0 is a tuplet of its own; two more events lie behind them. */
-    static final Score FULL_TUPLETS = Score.of("part(0)").with(22, i -> rest(0, i)).with(20, i -> "tuplet(0, " + i + ", 1, 3, 2, 2)");
+    static final Score FULL_TUPLETS = Score.of("part(0)").with(22, i -> rest(0, i))
+        .with(20, i -> "tuplet(0, " + i + ", 1, 3, 2, 2)");
 
     static final Score FULL_LINES = Score.of("part(0)", rest(0, 0), rest(0, 1)).with(30, i -> "line(" + i % 4 + ", 0, 1)");
 

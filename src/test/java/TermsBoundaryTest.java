@@ -1,7 +1,8 @@
 /** "Terms" at its bounds: what there is, its numbers and times, and the order of refusals. */
 public final class TermsBoundaryTest {
     private static final int NONE = StaveScore.NONE, BAD = StaveScore.BAD, STATE = StaveScore.STATE, FULL = StaveScore.FULL;
-    private static final int NULL = StaveScore.NULL, INDEX = StaveScore.INDEX, CAST = StaveScore.CAST, STORE = StaveScore.STORE;
+    private static final int NULL = StaveScore.NULL, INDEX = StaveScore.INDEX, CAST = StaveScore.CAST,
+        STORE = StaveScore.STORE;
     private static final int SIZE = StaveScore.SIZE;
     private static final Score RICH = Scores.RICH;
     private static final Cases cases = new Cases("TermsBoundaryTest");
@@ -12,6 +13,7 @@ public final class TermsBoundaryTest {
         sixParts();
         voicesOfParts();
         heardByKinds();
+        whatAKindHasNot();
         leastAndMost();
         theTrace();
         barsAtMost();
@@ -36,10 +38,12 @@ public final class TermsBoundaryTest {
 
     private static void numbersFromZeroOn() {
         cases.about("Terms", "What there is has its number from 0 on, as it comes.");
-        cases.answers(Score.of(), "part(3)", 0, "part(0)", 1, "bar(1, 1)", 0, "bar(1, 2)", 1, Scores.note(4, 0, 60), 0, Scores.note(0, 0, 60), 1,
-            "tuplet(0, 0, 1, 3, 2, 2)", 0, "tuplet(4, 0, 1, 3, 2, 2)", 1, "line(3, 1, 0)", 0, "line(0, 0, NONE)", 1);
-        cases.answers(Score.of("part(0)"), "part(6)", BAD, "part(0)", 1, "bar(0, 1)", BAD, "bar(1, 1)", 0, "put(0, 1, 0, 60, 2, 0)", BAD,
-            "put(0, 0, 0, 60, 2, 0)", 0, "tuplet(0, 0, 2, 3, 2, 2)", BAD, "tuplet(0, 0, 1, 3, 2, 2)", 0, "line(4, 0, 0)", BAD, "line(0, 0, 0)", 0);
+        cases.answers(Score.of(), "part(3)", 0, "part(0)", 1, "bar(1, 1)", 0, "bar(1, 2)", 1, Scores.note(4, 0, 60), 0,
+            Scores.note(0, 0, 60), 1, "tuplet(0, 0, 1, 3, 2, 2)", 0, "tuplet(4, 0, 1, 3, 2, 2)", 1, "line(3, 1, 0)", 0,
+            "line(0, 0, NONE)", 1);
+        cases.answers(Score.of("part(0)"), "part(6)", BAD, "part(0)", 1, "bar(0, 1)", BAD, "bar(1, 1)", 0,
+            "put(0, 1, 0, 60, 2, 0)", BAD, "put(0, 0, 0, 60, 2, 0)", 0, "tuplet(0, 0, 2, 3, 2, 2)", BAD,
+            "tuplet(0, 0, 1, 3, 2, 2)", 0, "line(4, 0, 0)", BAD, "line(0, 0, 0)", 0);
     }
 
     private static void leastForm() {
@@ -52,8 +56,8 @@ public final class TermsBoundaryTest {
                 "time(" + event + ", 4)", inBar[event][0], "time(" + event + ", 5)", inBar[event][1]);
         }
         cases.answers(quarters, "length(0, 0)", 2, "length(0, 1)", 1, "length(1, 0)", 0, "length(1, 1)", 1);
-        cases.answers(Score.of("part(0)", "put(0, 0, 2, 60, 5, 2)"), "time(0, 0)", 0, "time(0, 1)", 1, "time(0, 2)", 0, "time(0, 3)", 1,
-            "time(0, 4)", 0, "time(0, 5)", 1, "length(0, 0)", 0, "length(0, 1)", 1);
+        cases.answers(Score.of("part(0)", "put(0, 0, 2, 60, 5, 2)"), "time(0, 0)", 0, "time(0, 1)", 1, "time(0, 2)", 0,
+            "time(0, 3)", 1, "time(0, 4)", 0, "time(0, 5)", 1, "length(0, 0)", 0, "length(0, 1)", 1);
     }
 
     private static void sixParts() {
@@ -76,7 +80,8 @@ public final class TermsBoundaryTest {
         }
         int[] heard = {60, 48, 60, 53, 41, 35};
         for (int voice = 0; voice < 18; voice++) {
-            cases.answers(Scores.FULL_PARTS.with(Scores.note(voice, 0, 60)), "heard(0, 0)", heard[voice / 3], "at(0, 0)", voice);
+            cases.answers(Scores.FULL_PARTS.with(Scores.note(voice, 0, 60)), "heard(0, 0)", heard[voice / 3],
+                "at(0, 0)", voice);
         }
     }
 
@@ -95,9 +100,23 @@ public final class TermsBoundaryTest {
         }
     }
 
+    private static void whatAKindHasNot() {
+        cases.about("Terms", "\"Up\" is what the KIND that stands over it tells; what a KIND has not, it has as that one.");
+        Score all = Scores.FULL_PARTS;
+        // BRASS has no HEARD, LOW and DRUM no LEAST and no MOST, HORN neither, LOW HORN no MOST.
+        cases.takesAs(all, "asks(2, 0, 99)", 99, "asks(0, 0, 99)");
+        cases.takesAs(all, "asks(1, 1, 0)", 21);
+        cases.takesAs(all, "asks(1, 2, 0)", 108);
+        cases.takesAs(all, "asks(5, 1, 0)", 21);
+        cases.takesAs(all, "asks(5, 2, 0)", 108);
+        cases.takesAs(all, "asks(3, 1, 0)", 28);
+        cases.takesAs(all, "asks(3, 2, 0)", 82);
+        cases.takesAs(all, "asks(4, 2, 0)", 82);
+    }
+
     private static void leastAndMost() {
-        cases.about("Terms", "LEAST and MOST pitch that may be HEARD: PLAIN 21, 108; BRASS 28 and up's MOST less 26; "
-            + "LOW HORN up's LEAST less 5 (100000) (and MOST as it is).");
+        cases.about("Terms", "LEAST and MOST pitch that may be HEARD: PLAIN 21, 108; BRASS 28 and up's MOST less 26; LOW "
+            + "HORN up's LEAST less 5 (100000) (and MOST as it is).");
         int[][] want = {{21, 108}, {21, 108}, {28, 82}, {28, 82}, {23, 82}, {21, 108}};
         for (int kind = 0; kind <= 5; kind++) {
             cases.takes(Scores.FULL_PARTS, "asks(" + kind + ", 1, 60)", want[kind][0]);
@@ -106,7 +125,8 @@ public final class TermsBoundaryTest {
     }
 
     private static void theTrace() {
-        cases.about("Terms", "THE TRACE has the sum of the numbers in brackets, each as often as a KIND's own was asked (an up, too).");
+        cases.about("Terms", "THE TRACE has the sum of the numbers in brackets, each as often as a KIND's own was asked "
+            + "(an up, too).");
         long[][] want = {{1, 0, 0}, {11, 0, 0}, {1, 0, 0}, {101, 0, 0}, {1101, 100000, 0}, {10000, 0, 0}};
         for (int kind = 0; kind <= 5; kind++) {
             for (int what = 0; what <= 2; what++) {
@@ -116,7 +136,8 @@ public final class TermsBoundaryTest {
                 cases.answers(Scores.FULL_PARTS.with(call, call), "trace()", 2 * want[kind][what]);
             }
         }
-        Score all = Scores.FULL_PARTS.with(6, kind -> "asks(" + kind + ", 0, 0)").with(6, kind -> "asks(" + kind + ", 1, 0)");
+        Score all = Scores.FULL_PARTS.with(6, kind -> "asks(" + kind + ", 0, 0)")
+            .with(6, kind -> "asks(" + kind + ", 1, 0)");
         cases.answers(all, "trace()", 1 + 11 + 1 + 101 + 1101 + 10000 + 100000);
         cases.answers(Score.of("part(0)").with(400, i -> "asks(0, 0, 0)"), "trace()", 400);
         cases.answers(Score.of("part(4)").with(250, i -> "asks(0, 1, 0)"), "trace()", 25000000L);
@@ -140,8 +161,9 @@ public final class TermsBoundaryTest {
 
     private static void barsBehindOneAnother() {
         cases.about("Terms", "They lie one behind the other from 0 on.");
-        Score bars = Score.of("part(0)", "bar(1, 32)", "bar(1, 1)", "bar(3, 2)").with("put(0, 0, 3, 0, 5, 0)", "put(0, 1, 3, 0, 0, 0)",
-            "put(0, 2, 3, 0, 0, 1)", "put(0, 3, 3, 0, 0, 0)", "put(1, 0, 3, 0, 0, 0)", "put(1, 1, 3, 0, 0, 0)");
+        Score bars = Score.of("part(0)", "bar(1, 32)", "bar(1, 1)", "bar(3, 2)").with("put(0, 0, 3, 0, 5, 0)",
+            "put(0, 1, 3, 0, 0, 0)", "put(0, 2, 3, 0, 0, 1)", "put(0, 3, 3, 0, 0, 0)", "put(1, 0, 3, 0, 0, 0)",
+            "put(1, 1, 3, 0, 0, 0)");
         cases.answers(bars, "at(0, 6)", 0, "at(1, 6)", 1, "at(2, 6)", 2, "at(3, 6)", NONE, "at(4, 6)", 0, "at(5, 6)", 1,
             "time(5, 4)", 31, "time(5, 5)", 32, "time(2, 4)", 0, "time(2, 5)", 1, "time(3, 4)", 0, "time(3, 5)", 1);
         Score widest = Score.of("part(0)").with(24, i -> "bar(64, 1)").with(40, i -> "put(0, " + i + ", 3, 0, 0, 2)")
@@ -150,7 +172,8 @@ public final class TermsBoundaryTest {
     }
 
     private static void eventsEver() {
-        cases.about("Terms", "EVENTS (150 ever; no number comes again) lie in a VOICE (40 at once in one), one behind the other, at PLACES 0, 1, ..:");
+        cases.about("Terms", "EVENTS (150 ever; no number comes again) lie in a VOICE (40 at once in one), one behind the "
+            + "other, at PLACES 0, 1, ..:");
         Score oneLess = Score.of("part(0)", "part(0)").with(149, i -> Scores.rest(i / 40, i % 40));
         cases.takes(oneLess, Scores.rest(3, 29), 149);
         cases.refuses(Scores.FULL_EVENTS, FULL, Scores.rest(3, 30));
@@ -184,7 +207,8 @@ public final class TermsBoundaryTest {
                 Score then = Score.of("part(0)", "put(0, 0, " + kind + ", " + pitch + ", 2, 0)");
                 cases.answers(then, "at(0, 3)", 1, "pitch(0, 0)", pitch, "pitch(0, 1)", NONE);
             }
-            cases.refuses(Score.of("part(0)"), BAD, "put(0, 0, " + kind + ", -1, 2, 0)", "put(0, 0, " + kind + ", 128, 2, 0)");
+            cases.refuses(Score.of("part(0)"), BAD, "put(0, 0, " + kind + ", -1, 2, 0)",
+                "put(0, 0, " + kind + ", 128, 2, 0)");
         }
         cases.answers(Scores.KINDS, "at(3, 3)", 0, "at(4, 3)", 0);
     }
@@ -192,8 +216,9 @@ public final class TermsBoundaryTest {
     private static void pitchesOfChords() {
         cases.about("Terms", "one, of a CHORD up to 6, each above the one before.");
         Score chord = Score.of("part(0)", "put(0, 0, 1, 0, 2, 0)");
-        cases.answers(chord, "chord(0, 0)", STATE, "chord(0, 1)", 2, "chord(0, 1)", STATE, "chord(0, 2)", 3, "chord(0, 3)", 4, "chord(0, 126)", 5,
-            "chord(0, 125)", STATE, "chord(0, 127)", 6, "at(0, 3)", 6, "chord(0, 127)", STATE, "pitch(0, 5)", 127, "pitch(0, 4)", 126);
+        cases.answers(chord, "chord(0, 0)", STATE, "chord(0, 1)", 2, "chord(0, 1)", STATE, "chord(0, 2)", 3,
+            "chord(0, 3)", 4, "chord(0, 126)", 5, "chord(0, 125)", STATE, "chord(0, 127)", 6, "at(0, 3)", 6,
+            "chord(0, 127)", STATE, "pitch(0, 5)", 127, "pitch(0, 4)", 126);
         Score six = Score.of("part(0)", "put(0, 0, 1, 60, 2, 0)").with(5, i -> "chord(0, " + (61 + i) + ")");
         cases.refuses(six, FULL, "chord(0, 66)", "chord(0, 127)");
     }
@@ -206,7 +231,8 @@ public final class TermsBoundaryTest {
             cases.takes(Score.of("part(0)"), put + "5, 2)", 0);
             cases.refuses(Score.of("part(0)"), BAD, put + "-1, 0)", put + "6, 0)", put + "0, -1)", put + "0, 3)");
             cases.answers(Score.of("part(0)", put + "5, 2)"), "at(0, 7)", 5, "at(0, 8)", 2, "at(0, 4)", 0);
-            cases.answers(Scores.KINDS, "tie(" + kind + ", true)", kind <= 2 ? 0 : CAST, "at(" + kind + ", 4)", kind <= 2 ? 1 : 0);
+            cases.answers(Scores.KINDS, "tie(" + kind + ", true)", kind <= 2 ? 0 : CAST,
+                "at(" + kind + ", 4)", kind <= 2 ? 1 : 0);
         }
     }
 
@@ -228,8 +254,8 @@ public final class TermsBoundaryTest {
                     boolean none = kind == 2 || kind == 4;
                     Score one = Score.of("part(0)", "put(0, 0, " + kind + ", 60, " + value + ", " + dots + ")");
                     told(one, 0, none ? 0 : dotted[dots][0], none ? 1 : (1L << value) * dotted[dots][1]);
-                    told(Scores.KINDS.with("value(" + kind + ", " + value + ", " + dots + ")"), kind, none ? 0 : dotted[dots][0],
-                        none ? 1 : (1L << value) * dotted[dots][1]);
+                    told(Scores.KINDS.with("value(" + kind + ", " + value + ", " + dots + ")"), kind,
+                        none ? 0 : dotted[dots][0], none ? 1 : (1L << value) * dotted[dots][1]);
                 }
             }
         }
@@ -247,7 +273,8 @@ public final class TermsBoundaryTest {
                 told(then, 1, 1, 1);
             }
         }
-        cases.answers(Scores.KINDS.with("tuplet(0, 0, 5, 7, 8, 0)"), "time(2, 2)", 0, "time(2, 3)", 1, "time(4, 2)", 0, "time(4, 3)", 1);
+        cases.answers(Scores.KINDS.with("tuplet(0, 0, 5, 7, 8, 0)"), "time(2, 2)", 0, "time(2, 3)", 1, "time(4, 2)", 0,
+            "time(4, 3)", 1);
     }
 
     private static void timeInTwoTuplets() {
@@ -256,7 +283,8 @@ public final class TermsBoundaryTest {
         for (int n : TUPLET_N) {
             for (int inner : TUPLET_N) {
                 for (int m : new int[] {1, 7, 8}) {
-                    Score then = shortest.with("tuplet(0, 0, 2, " + n + ", " + m + ", 0)", "tuplet(0, 0, 1, " + inner + ", 1, 5)");
+                    Score then = shortest.with("tuplet(0, 0, 2, " + n + ", " + m + ", 0)",
+                        "tuplet(0, 0, 1, " + inner + ", 1, 5)");
                     told(then, 0, 7L * m, 128L * n * inner);
                     told(then, 1, m, n);
                     told(then.with("untuplet(0)"), 0, 7, 128L * inner);
@@ -267,14 +295,15 @@ public final class TermsBoundaryTest {
 
     private static void begins() {
         cases.about("Terms", "It BEGINS at the sum of the TIME of those ahead of it in its VOICE.");
-        Score row = Score.of("part(0)", "put(0, 0, 3, 0, 5, 2)", "put(0, 1, 2, 60, 0, 0)", "put(0, 2, 3, 0, 3, 0)", "put(0, 3, 3, 0, 3, 0)",
-            "tuplet(0, 2, 1, 7, 6, 3)", "tuplet(0, 0, 3, 5, 4, 3)", Scores.rest(1, 0));
+        Score row = Score.of("part(0)", "put(0, 0, 3, 0, 5, 2)", "put(0, 1, 2, 60, 0, 0)", "put(0, 2, 3, 0, 3, 0)",
+            "put(0, 3, 3, 0, 3, 0)", "tuplet(0, 2, 1, 7, 6, 3)", "tuplet(0, 0, 3, 5, 4, 3)", Scores.rest(1, 0));
         // 7 / 128 times 4 / 5, then 1 / 8 times 6 / 7 times 4 / 5.
-        cases.answers(row, "time(0, 0)", 0, "time(0, 1)", 1, "time(1, 0)", 7, "time(1, 1)", 160, "time(2, 0)", 7, "time(2, 1)", 160,
-            "time(3, 0)", 29, "time(3, 1)", 224, "time(4, 0)", 0, "time(4, 1)", 1);
+        cases.answers(row, "time(0, 0)", 0, "time(0, 1)", 1, "time(1, 0)", 7, "time(1, 1)", 160, "time(2, 0)", 7,
+            "time(2, 1)", 160, "time(3, 0)", 29, "time(3, 1)", 224, "time(4, 0)", 0, "time(4, 1)", 1);
         Score all = Score.of("part(0)").with(40, i -> "put(0, " + i + ", 3, 0, 5, 0)");
         cases.answers(all, "time(39, 0)", 39, "time(39, 1)", 32, "drop(0)", 0, "time(39, 0)", 19, "time(39, 1)", 16);
-        cases.answers(all.with("value(0, 0, 0)"), "time(0, 0)", 0, "time(1, 0)", 1, "time(1, 1)", 1, "time(39, 0)", 35, "time(39, 1)", 16);
+        cases.answers(all.with("value(0, 0, 0)"), "time(0, 0)", 0, "time(1, 0)", 1, "time(1, 1)", 1, "time(39, 0)", 35,
+            "time(39, 1)", 16);
     }
 
     private static void rowNumbers() {
@@ -282,22 +311,24 @@ public final class TermsBoundaryTest {
         cases.takes(Score.of(), "rack(0, 0, 1)", 1);
         cases.takes(Score.of(), "rack(3, 5, 1)", 1);
         cases.refuses(Score.of(), BAD, "rack(-1, 0, 1)", "rack(4, 0, 1)", "rack(0, -1, 1)", "rack(0, 6, 1)");
-        cases.about("Terms", "SHELVES 0 .. 3 are ROWS of pitches: of BYTES (0), SHORTS (1), CHARS (2, 16 bits without sign), INTS (3).");
+        cases.about("Terms", "SHELVES 0 .. 3 are ROWS of pitches: of BYTES (0), SHORTS (1), CHARS (2, 16 bits without "
+            + "sign), INTS (3).");
         cases.takes(Score.of(), "shelf(0, 0, 1)", 1);
         cases.takes(Score.of(), "shelf(3, 3, 1)", 1);
         cases.refuses(Score.of(), BAD, "shelf(-1, 0, 1)", "shelf(4, 0, 1)", "shelf(0, -1, 1)", "shelf(0, 4, 1)");
     }
 
     private static void orderOfRefusals() {
-        cases.about("Terms", "Refused, of several the first one here: BAD (there is no such; a number is not as told); STATE; FULL;");
+        cases.about("Terms", "Refused, of several the first one here: BAD (there is no such; a number is not as told); "
+            + "STATE; FULL;");
         cases.refuses(Scores.FULL_PARTS, BAD, "part(6)");
         cases.refuses(Scores.FULL_BARS, BAD, "bar(1, 3)");
         cases.refuses(Scores.FULL_VOICE, BAD, "put(0, 41, 3, 0, 2, 0)", "put(0, 0, 3, 0, 2, 3)");
         cases.refuses(Scores.FULL_EVENTS, BAD, "put(0, 0, 3, 0, 6, 0)");
         cases.refuses(Scores.FULL_LINES, BAD, "line(0, 0, 9)");
         cases.refuses(Scores.FULL_TUPLETS, BAD, "tuplet(0, 0, 1, 3, 2, 6)");
-        Score fullAndCrossed = Score.of("part(0)").with(22, i -> Scores.rest(0, i)).with(19, i -> "tuplet(0, " + i + ", 1, 3, 2, 2)")
-            .with("tuplet(0, 18, 2, 3, 2, 2)");
+        Score fullAndCrossed = Score.of("part(0)").with(22, i -> Scores.rest(0, i))
+            .with(19, i -> "tuplet(0, " + i + ", 1, 3, 2, 2)").with("tuplet(0, 18, 2, 3, 2, 2)");
         cases.refuses(fullAndCrossed, STATE, "tuplet(0, 19, 2, 3, 2, 2)");
         cases.refuses(fullAndCrossed, BAD, "tuplet(0, 19, 2, 3, 0, 2)");
         cases.refuses(fullAndCrossed, FULL, "tuplet(0, 20, 2, 3, 2, 2)");
@@ -307,28 +338,31 @@ public final class TermsBoundaryTest {
     }
 
     private static void orderAmongFailures() {
-        cases.about("Terms", "then, as a call meets them, and counted as FAILURES: NULL (there is no ROW, no EVENT), INDEX (no such place in a ROW; "
-            + "a pitch would be none), CAST (it is of another KIND), STORE (a RACK does not take it), SIZE (below 0).");
+        cases.about("Terms", "then, as a call meets them, and counted as FAILURES: NULL (there is no ROW, no EVENT), "
+            + "INDEX (no such place in a ROW; a pitch would be none), CAST (it is of another KIND), STORE (a RACK does "
+            + "not take it), SIZE (below 0).");
         cases.refuses(RICH, CAST, "shift(3, MAX)", "shift(4, MIN)");
-        cases.refuses(RICH, NULL, "hold(3, 99, 3)", "held(3, 99)", "slide(3, 9, 9, -1)", "item(3, 99)", "lift(3, 99, 1)", "copy(0, 9, 3, 9, -1)");
+        cases.refuses(RICH, NULL, "hold(3, 99, 3)", "held(3, 99)", "slide(3, 9, 9, -1)", "item(3, 99)", "lift(3, 99, 1)",
+            "copy(0, 9, 3, 9, -1)");
         cases.refuses(RICH, INDEX, "hold(2, 9, 0)", "hold(1, 0, 3)", "held(0, 3)");
         cases.refuses(RICH, CAST, "copy(0, 9, 2, 9, -1)");
-        cases.refuses(RICH, BAD, "hold(3, 99, 7)", "hold(4, 99, 3)", "held(4, 99)", "slide(4, 9, 9, -1)", "item(4, 99)", "lift(4, 99, 1)",
-            "copy(4, 9, 3, 9, -1)", "copy(3, 9, 4, 9, -1)", "rack(4, 0, -1)", "rack(0, 6, -1)", "shelf(4, 0, -1)", "shelf(0, 4, -1)",
-            "shift(7, MAX)", "transpose(6, MAX)", "play(4, 0)", "play(3, 6)");
+        cases.refuses(RICH, BAD, "hold(3, 99, 7)", "hold(4, 99, 3)", "held(4, 99)", "slide(4, 9, 9, -1)", "item(4, 99)",
+            "lift(4, 99, 1)", "copy(4, 9, 3, 9, -1)", "copy(3, 9, 4, 9, -1)", "rack(4, 0, -1)", "rack(0, 6, -1)",
+            "shelf(4, 0, -1)", "shelf(0, 4, -1)", "shift(7, MAX)", "transpose(6, MAX)", "play(4, 0)", "play(3, 6)");
         cases.refuses(RICH, STORE, "hold(2, 0, 0)");
         cases.refuses(RICH, SIZE, "rack(3, 0, -1)", "shelf(3, 0, -1)");
     }
 
     private static void refusedChangesNothing() {
         cases.about("Terms", "What is refused changes nothing but FAILURES and status(), but as told.");
-        String[] wild = {"part(MAX)", "bar(MAX, MAX)", "put(MAX, MAX, MAX, MAX, MAX, MAX)", "drop(MAX)", "chord(MAX, MAX)", "pitch(MAX, MAX)",
-            "heard(MAX, MAX)", "shift(MAX, MAX)", "transpose(MAX, MAX)", "tie(MAX, true)", "value(MAX, MAX, MAX)", "at(MAX, MAX)",
-            "time(MAX, MAX)", "length(MAX, MAX)", "event(MAX, MAX)", "asks(MAX, MAX, MAX)", "tuplet(MAX, MAX, MAX, MAX, MAX, MAX)",
-            "untuplet(MAX)", "tupletAt(MAX, MAX)", "line(MAX, MAX, MAX)", "end(MAX, MAX)", "lineAt(MAX, MAX)", "finding(MAX, MAX)",
-            "equal(MAX, MAX)", "rack(MAX, MAX, MAX)", "hold(MAX, MAX, MAX)", "held(MAX, MAX)", "slide(MAX, MAX, MAX, MAX)",
-            "shelf(MAX, MAX, MAX)", "lay(MAX, true, MAX, MAX)", "lay(MAX, false, MAX, MAX)", "item(MAX, MAX)", "lift(MAX, MAX, MAX)",
-            "copy(MAX, MAX, MAX, MAX, MAX)", "play(MAX, MAX)"};
+        String[] wild = {"part(MAX)", "bar(MAX, MAX)", "put(MAX, MAX, MAX, MAX, MAX, MAX)", "drop(MAX)", "chord(MAX, MAX)",
+            "pitch(MAX, MAX)", "heard(MAX, MAX)", "shift(MAX, MAX)", "transpose(MAX, MAX)", "tie(MAX, true)",
+            "value(MAX, MAX, MAX)", "at(MAX, MAX)", "time(MAX, MAX)", "length(MAX, MAX)", "event(MAX, MAX)",
+            "asks(MAX, MAX, MAX)", "tuplet(MAX, MAX, MAX, MAX, MAX, MAX)", "untuplet(MAX)", "tupletAt(MAX, MAX)",
+            "line(MAX, MAX, MAX)", "end(MAX, MAX)", "lineAt(MAX, MAX)", "finding(MAX, MAX)", "equal(MAX, MAX)",
+            "rack(MAX, MAX, MAX)", "hold(MAX, MAX, MAX)", "held(MAX, MAX)", "slide(MAX, MAX, MAX, MAX)",
+            "shelf(MAX, MAX, MAX)", "lay(MAX, true, MAX, MAX)", "lay(MAX, false, MAX, MAX)", "item(MAX, MAX)",
+            "lift(MAX, MAX, MAX)", "copy(MAX, MAX, MAX, MAX, MAX)", "play(MAX, MAX)"};
         for (String call : wild) {
             cases.refuses(RICH, BAD, call, call.replace("MAX", "MIN"), call.replace("MAX", "-2"));
         }
@@ -336,8 +370,9 @@ public final class TermsBoundaryTest {
 
     private static void goneAreNoneSuch() {
         cases.about("Terms", "EVENTS, TUPLETS that are gone are none such.");
-        cases.refuses(RICH, BAD, "drop(7)", "chord(7, 60)", "pitch(7, 0)", "heard(7, 0)", "shift(7, 0)", "tie(7, true)", "value(7, 0, 0)", "at(7, 0)",
-            "time(7, 0)", "line(0, 7, 0)", "line(0, 7, NONE)", "line(0, 0, 7)", "end(1, 7)", "hold(0, 0, 7)", "untuplet(2)", "tupletAt(2, 0)");
+        cases.refuses(RICH, BAD, "drop(7)", "chord(7, 60)", "pitch(7, 0)", "heard(7, 0)", "shift(7, 0)", "tie(7, true)",
+            "value(7, 0, 0)", "at(7, 0)", "time(7, 0)", "line(0, 7, 0)", "line(0, 7, NONE)", "line(0, 0, 7)", "end(1, 7)",
+            "hold(0, 0, 7)", "untuplet(2)", "tupletAt(2, 0)");
         Score emptied = Scores.notes(1).with("tuplet(0, 0, 1, 3, 2, 2)", "drop(0)");
         cases.refuses(emptied, BAD, "untuplet(0)", "tupletAt(0, 2)", "drop(0)", "at(0, 1)");
     }

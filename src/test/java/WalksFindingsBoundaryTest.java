@@ -52,7 +52,8 @@ public final class WalksFindingsBoundaryTest {
     }
 
     private static void walk() {
-        cases.about("Promise 24", "THE WALK: all EVENTS by where they BEGIN, of several by VOICES, then by PLACES: how many.");
+        cases.about("Promise 24", "THE WALK: all EVENTS by where they BEGIN, of several by VOICES, then by PLACES: how "
+            + "many.");
         walks(Score.of());
         walks(Score.of("part(0)"));
         walks(Scores.notes(1), 0);
@@ -73,8 +74,8 @@ public final class WalksFindingsBoundaryTest {
             "put(1, 1, 0, 60, 2, 0)", "put(0, 2, 0, 60, 3, 0)", "put(0, 3, 2, 60, 3, 0)", "put(1, 2, 3, 60, 3, 0)");
         walks(graces, 2, 1, 4, 0, 3, 5, 6);
         // Three eighths in the time of two end where a quarter does, to the last fraction.
-        Score triplets = Score.of("part(0)").with(4, i -> "put(0, " + i + ", 3, 0, 3, 0)").with(2, i -> "put(1, " + i + ", 3, 0, 2, 0)")
-            .with("tuplet(0, 0, 3, 3, 2, 3)");
+        Score triplets = Score.of("part(0)").with(4, i -> "put(0, " + i + ", 3, 0, 3, 0)")
+            .with(2, i -> "put(1, " + i + ", 3, 0, 2, 0)").with("tuplet(0, 0, 3, 3, 2, 3)");
         walks(triplets, 0, 4, 1, 2, 3, 5);
         walks(triplets.with("untuplet(0)"), 0, 4, 1, 2, 5, 3);
         walks(triplets.with("untuplet(0)", "tuplet(0, 0, 3, 3, 1, 3)"), 0, 4, 1, 2, 3, 5);
@@ -91,8 +92,8 @@ public final class WalksFindingsBoundaryTest {
         }
         cases.takes(Scores.notes(3), "walked(0)", NONE);
         Score then = score.with("drop(0)", Scores.note(0, 0, 70), "value(1, 0, 0)", "drop(2)");
-        cases.answers(then, "walked(0)", 0, "walked(1)", 1, "walked(2)", 2, "walked(3)", NONE, "walk()", 2, "walked(0)", 3, "walked(1)", 1,
-            "walked(2)", NONE);
+        cases.answers(then, "walked(0)", 0, "walked(1)", 1, "walked(2)", 2, "walked(3)", NONE, "walk()", 2, "walked(0)", 3,
+            "walked(1)", 1, "walked(2)", NONE);
         cases.answers(score.with("drop(0)", "drop(1)", "drop(2)", "walk()"), "walked(0)", NONE);
         cases.answers(Scores.FULL_EVENTS.with("walk()"), "walked(149)", 119, "walked(150)", NONE);
     }
@@ -115,7 +116,8 @@ public final class WalksFindingsBoundaryTest {
     private static void overByTheLeast() {
         cases.about("Terms", "0 OVER: it BEGINS in a BAR, and its TIME ends behind that (EVENT, BAR);");
         // Three eighths in the time of two are a quarter, to the last fraction; 49ths are just beside it.
-        Score triplets = Score.of("part(0)", "bar(1, 4)").with(3, i -> "put(0, " + i + ", 3, 0, 3, 0)").with("tuplet(0, 0, 3, 3, 2, 3)");
+        Score triplets = Score.of("part(0)", "bar(1, 4)").with(3, i -> "put(0, " + i + ", 3, 0, 3, 0)")
+            .with("tuplet(0, 0, 3, 3, 2, 3)");
         finds(triplets);
         Score seven = Score.of("part(0)", "bar(1, 4)", "put(0, 0, 3, 0, 2, 2)");
         finds(seven.with("tuplet(0, 0, 1, 7, 4, 4)"));
@@ -123,13 +125,13 @@ public final class WalksFindingsBoundaryTest {
         Score squeezed = Score.of("part(0)", "bar(1, 1)", "put(0, 0, 3, 0, 0, 0)", "put(0, 1, 3, 0, 5, 2)",
             "tuplet(0, 1, 1, 7, 1, 5)", "tuplet(0, 1, 1, 7, 1, 5)");
         cases.answers(squeezed, "time(1, 2)", 1, "time(1, 3)", 896);
-        finds(squeezed.with("drop(0)", "bar(1, 32)", "put(0, 0, 3, 0, 0, 0)", "put(0, 2, 3, 0, 5, 0)"), OVER, 3, 1, LONG, 0, -1, SUM, 0, -1,
-            SUM, 1, -1);
+        finds(squeezed.with("drop(0)", "bar(1, 32)", "put(0, 0, 3, 0, 0, 0)", "put(0, 2, 3, 0, 5, 0)"), OVER, 3, 1,
+            LONG, 0, -1, SUM, 0, -1, SUM, 1, -1);
     }
 
     private static void tie() {
-        cases.about("Terms", "1 TIE: a NOTE is TIED, and the next EVENT of the VOICE that is neither GRACE nor BREATH is none, or no NOTE, "
-            + "or lacks one of its pitches (EVENT, -1);");
+        cases.about("Terms", "1 TIE: a NOTE is TIED, and the next EVENT of the VOICE that is neither GRACE nor BREATH is "
+            + "none, or no NOTE, or lacks one of its pitches (EVENT, -1);");
         Score two = Score.of("part(0)", "bar(1, 2)", Scores.note(0, 0, 60), "put(0, 1, 1, 60, 2, 0)", "chord(1, 64)");
         finds(two);
         finds(two.with("tie(0, true)"));
@@ -138,7 +140,8 @@ public final class WalksFindingsBoundaryTest {
         finds(two.with("tie(0, true)", "shift(0, 1)"), TIE, 0, -1);
         finds(two.with("tie(0, true)", "shift(0, -1)"), TIE, 0, -1);
         finds(two.with("tie(0, true)", "tie(0, false)", "shift(0, 1)"));
-        Score chordFirst = Score.of("part(0)", "bar(1, 2)", "put(0, 0, 1, 60, 2, 0)", "chord(0, 64)", "tie(0, true)", "put(0, 1, 1, 60, 2, 0)");
+        Score chordFirst = Score.of("part(0)", "bar(1, 2)", "put(0, 0, 1, 60, 2, 0)", "chord(0, 64)", "tie(0, true)",
+            "put(0, 1, 1, 60, 2, 0)");
         finds(chordFirst, TIE, 0, -1);
         finds(chordFirst.with("chord(1, 63)"), TIE, 0, -1);
         finds(chordFirst.with("chord(1, 62)", "chord(1, 64)", "chord(1, 70)"));
@@ -150,8 +153,8 @@ public final class WalksFindingsBoundaryTest {
 
     private static void tieOverGraces() {
         cases.about("Terms", "the next EVENT of the VOICE that is neither GRACE nor BREATH");
-        Score tied = Score.of("part(0)", "bar(1, 2)", Scores.note(0, 0, 60), "tie(0, true)", "put(0, 1, 2, 60, 2, 0)", "put(0, 2, 4, 0, 2, 0)",
-            "put(0, 3, 2, 61, 2, 0)");
+        Score tied = Score.of("part(0)", "bar(1, 2)", Scores.note(0, 0, 60), "tie(0, true)", "put(0, 1, 2, 60, 2, 0)",
+            "put(0, 2, 4, 0, 2, 0)", "put(0, 3, 2, 61, 2, 0)");
         finds(tied.with("value(0, 1, 0)"), TIE, 0, -1);
         finds(tied.with(Scores.note(0, 4, 60)));
         finds(tied.with(Scores.note(0, 4, 61)), TIE, 0, -1);
@@ -160,7 +163,8 @@ public final class WalksFindingsBoundaryTest {
         finds(grace);
         finds(grace.with("shift(0, 1)"), TIE, 0, -1);
         finds(grace.with("drop(1)"), TIE, 0, -1, SHORT, 0, -1);
-        Score far = Score.of("part(0)", "bar(1, 2)", Scores.note(0, 0, 60), "tie(0, true)").with(38, i -> "put(0, 1, 4, 0, 2, 0)");
+        Score far = Score.of("part(0)", "bar(1, 2)", Scores.note(0, 0, 60), "tie(0, true)")
+            .with(38, i -> "put(0, 1, 4, 0, 2, 0)");
         finds(far.with(Scores.note(0, 39, 60)));
         finds(far.with(Scores.note(0, 39, 61)), TIE, 0, -1);
     }
@@ -189,7 +193,8 @@ public final class WalksFindingsBoundaryTest {
         finds(chord.with("chord(0, 83)"), RANGE, 0, -1);
         finds(chord.with("shift(0, -1)"), RANGE, 0, -1);
         finds(chord.with("shift(0, 1)"), RANGE, 0, -1);
-        Score six = Score.of("part(2)", "bar(1, 4)", "put(0, 0, 1, 78, 2, 0)", "chord(0, 79)", "chord(0, 80)", "chord(0, 81)", "chord(0, 82)");
+        Score six = Score.of("part(2)", "bar(1, 4)", "put(0, 0, 1, 78, 2, 0)", "chord(0, 79)", "chord(0, 80)",
+            "chord(0, 81)", "chord(0, 82)");
         finds(six.with("chord(0, 127)"), RANGE, 0, -1);
         finds(six.with("shift(0, -1)", "chord(0, 82)"));
         finds(Score.of("part(2)", "put(0, 0, 2, 27, 2, 0)"), RANGE, 0, -1);
@@ -209,20 +214,24 @@ public final class WalksFindingsBoundaryTest {
     }
 
     private static void rangeAsksUpToTheFirst() {
-        cases.about("Terms", "pitch by pitch, from the lowest on, HEARD is asked, then LEAST, then, if it is not below that, MOST, up to the first that is out.");
-        Score lowHorn = Score.of("part(4)", "put(0, 0, 1, 41, 2, 0)", "chord(0, 42)", "chord(0, 101)", "chord(0, 102)", "chord(0, 103)");
+        cases.about("Terms", "pitch by pitch, from the lowest on, HEARD is asked, then LEAST, then, if it is not below "
+            + "that, MOST, up to the first that is out.");
+        Score lowHorn = Score.of("part(4)", "put(0, 0, 1, 41, 2, 0)", "chord(0, 42)", "chord(0, 101)", "chord(0, 102)",
+            "chord(0, 103)");
         int both = 1101 + 100000;
         cases.answers(lowHorn.with("check()"), "trace()", both);
         cases.answers(lowHorn.with("shift(0, 1)", "check()"), "trace()", 3L * both);
         cases.answers(lowHorn.with("shift(0, -1)", "line(2, 0, 0)", "check()"), "trace()", 3L * both);
-        Score inRange = Score.of("part(4)", "put(0, 0, 1, 42, 2, 0)", "chord(0, 101)", Scores.note(0, 1, 60), Scores.rest(0, 2), "put(0, 3, 2, 60, 2, 0)");
+        Score inRange = Score.of("part(4)", "put(0, 0, 1, 42, 2, 0)", "chord(0, 101)", Scores.note(0, 1, 60),
+            Scores.rest(0, 2), "put(0, 3, 2, 60, 2, 0)");
         cases.answers(inRange.with("check()"), "trace()", 4L * both);
         cases.answers(inRange.with("check()", "check()"), "trace()", 8L * both);
         cases.answers(Score.of("part(4)", Scores.rest(0, 0), "check()"), "trace()", 0);
     }
 
     private static void shortAndLong() {
-        cases.about("Terms", "Behind its EVENTS each VOICE that has some: 3 SHORT, 4 LONG: their TIME in all is less, more than all BARS (VOICE, -1).");
+        cases.about("Terms", "Behind its EVENTS each VOICE that has some: 3 SHORT, 4 LONG: their TIME in all is less, "
+            + "more than all BARS (VOICE, -1).");
         finds(Score.of("part(0)", "bar(1, 4)"));
         finds(Score.of("part(0)", "bar(1, 4)", Scores.rest(2, 0)));
         finds(Score.of("part(0)", "bar(1, 4)", "bar(1, 32)", Scores.rest(2, 0)), SHORT, 2, -1);
@@ -231,8 +240,10 @@ public final class WalksFindingsBoundaryTest {
         finds(Score.of("part(0)", "put(1, 0, 2, 60, 0, 0)", "put(1, 1, 4, 60, 0, 0)"));
         finds(Score.of("part(0)", "bar(1, 32)", "put(1, 0, 2, 60, 0, 0)"), SHORT, 1, -1);
         finds(Score.of("part(0)", "bar(1, 4)", Scores.rest(2, 0), "drop(0)"));
-        Score all = Scores.FULL_PARTS.with("bar(1, 4)").with(18, i -> "put(" + i + ", 0, 3, 0, " + (i % 2 == 0 ? 3 : 2) + ", 0)");
-        finds(all, SHORT, 0, -1, SHORT, 2, -1, SHORT, 4, -1, SHORT, 6, -1, SHORT, 8, -1, SHORT, 10, -1, SHORT, 12, -1, SHORT, 14, -1, SHORT, 16, -1);
+        Score all = Scores.FULL_PARTS.with("bar(1, 4)")
+            .with(18, i -> "put(" + i + ", 0, 3, 0, " + (i % 2 == 0 ? 3 : 2) + ", 0)");
+        finds(all, SHORT, 0, -1, SHORT, 2, -1, SHORT, 4, -1, SHORT, 6, -1, SHORT, 8, -1, SHORT, 10, -1, SHORT, 12, -1,
+            SHORT, 14, -1, SHORT, 16, -1);
         Score least = Score.of("part(0)", "bar(1, 8)", "bar(1, 16)").with(3, i -> "put(0, " + i + ", 3, 0, 3, 0)");
         finds(least.with("tuplet(0, 0, 3, 6, 3, 4)"));
         finds(least.with("tuplet(0, 0, 3, 7, 3, 4)"), OVER, 2, 0, SHORT, 0, -1, SUM, 0, -1);
@@ -240,27 +251,35 @@ public final class WalksFindingsBoundaryTest {
     }
 
     private static void sum() {
-        cases.about("Terms", "5 SUM: the sum over its EVENTS of WRITTEN TIME, times m / n of its INNER one where they lie in that, is not n UNITS (TUPLET, -1).");
+        cases.about("Terms", "5 SUM: the sum over its EVENTS of WRITTEN TIME, times m / n of its INNER one where they lie "
+            + "in that, is not n UNITS (TUPLET, -1).");
         int[] all = {3, 5, 6, 7};
         for (int n : all) {
             for (int unit = 0; unit <= 5; unit++) {
                 int u = unit;
-                Score units = Score.of("part(0)", "bar(" + n + ", " + (1 << unit) + ")").with(n, i -> "put(0, " + i + ", 3, 0, " + u + ", 0)");
+                Score units = Score.of("part(0)", "bar(" + n + ", " + (1 << unit) + ")")
+                    .with(n, i -> "put(0, " + i + ", 3, 0, " + u + ", 0)");
                 String tuplet = ", " + n + ", 1, " + unit + ")";
-                cases.answers(units.with("tuplet(0, 0, " + n + tuplet, "check()"), "finding(1, 0)", NONE, "finding(0, 0)", SHORT);
-                cases.answers(units.with("tuplet(0, 0, " + (n - 1) + tuplet, "check()"), "finding(1, 0)", SUM, "finding(1, 1)", 0, "finding(1, 2)", -1);
-                cases.answers(units.with("put(0, 1, 3, 0, 5, 0)", "tuplet(0, 0, " + (n + 1) + tuplet, "check()"), "finding(1, 0)", SUM);
-                cases.answers(units.with("put(0, 1, 2, 60, 0, 0)", "tuplet(0, 0, " + (n + 1) + tuplet, "check()"), "finding(1, 0)", NONE);
+                cases.answers(units.with("tuplet(0, 0, " + n + tuplet, "check()"), "finding(1, 0)", NONE,
+                    "finding(0, 0)", SHORT);
+                cases.answers(units.with("tuplet(0, 0, " + (n - 1) + tuplet, "check()"), "finding(1, 0)", SUM,
+                    "finding(1, 1)", 0, "finding(1, 2)", -1);
+                cases.answers(units.with("put(0, 1, 3, 0, 5, 0)", "tuplet(0, 0, " + (n + 1) + tuplet, "check()"),
+                    "finding(1, 0)", SUM);
+                cases.answers(units.with("put(0, 1, 2, 60, 0, 0)", "tuplet(0, 0, " + (n + 1) + tuplet, "check()"),
+                    "finding(1, 0)", NONE);
             }
         }
-        Score dotted = Score.of("part(0)", "bar(1, 4)", "put(0, 0, 3, 0, 3, 1)", "put(0, 1, 3, 0, 3, 1)", "tuplet(0, 0, 2, 3, 2, 3)");
+        Score dotted = Score.of("part(0)", "bar(1, 4)", "put(0, 0, 3, 0, 3, 1)", "put(0, 1, 3, 0, 3, 1)",
+            "tuplet(0, 0, 2, 3, 2, 3)");
         finds(dotted);
         finds(dotted.with("value(1, 3, 2)"), OVER, 1, 0, LONG, 0, -1, SUM, 0, -1);
     }
 
     private static void sumWithInnerOnes() {
         cases.about("Terms", "times m / n of its INNER one where they lie in that");
-        Score nested = Score.of("part(0)", "bar(1, 2)", Scores.rest(0, 0)).with(3, i -> "put(0, 1, 3, 0, 3, 0)").with(Scores.rest(0, 4));
+        Score nested = Score.of("part(0)", "bar(1, 2)", Scores.rest(0, 0)).with(3, i -> "put(0, 1, 3, 0, 3, 0)")
+            .with(Scores.rest(0, 4));
         finds(nested.with("tuplet(0, 0, 5, 3, 2, 2)", "tuplet(0, 1, 3, 3, 2, 3)"));
         finds(nested.with("tuplet(0, 1, 3, 3, 2, 3)", "tuplet(0, 0, 5, 3, 2, 2)"));
         finds(nested.with("tuplet(0, 0, 5, 3, 2, 2)"), OVER, 4, 0, LONG, 0, -1, SUM, 0, -1);
@@ -276,7 +295,8 @@ public final class WalksFindingsBoundaryTest {
     }
 
     private static void openAndBack() {
-        cases.about("Terms", "Then by LINES: 6 OPEN: it ends nowhere; 7 BACK: the end BEGINS ahead of the beginning (LINE, -1).");
+        cases.about("Terms", "Then by LINES: 6 OPEN: it ends nowhere; 7 BACK: the end BEGINS ahead of the beginning "
+            + "(LINE, -1).");
         Score s = Score.of("part(0)", "bar(1, 2)", "put(0, 0, 2, 60, 2, 0)", Scores.note(0, 1, 60), Scores.note(0, 2, 60),
             Scores.note(1, 0, 60), Scores.note(1, 1, 60));
         for (int kind = 0; kind <= 3; kind++) {
@@ -292,7 +312,8 @@ public final class WalksFindingsBoundaryTest {
             finds(s.with(line + "4, 1)"), BACK, 0, -1);
             finds(s.with(line + "2, 3)"), BACK, 0, -1);
         }
-        finds(s.with("line(0, 1, NONE)", "line(0, 2, 1)", "line(0, 0, 1)", "line(3, 2, NONE)"), OPEN, 0, -1, BACK, 1, -1, OPEN, 3, -1);
+        finds(s.with("line(0, 1, NONE)", "line(0, 2, 1)", "line(0, 0, 1)", "line(3, 2, NONE)"), OPEN, 0, -1, BACK, 1, -1,
+            OPEN, 3, -1);
         finds(s.with("line(0, 1, 2)", "drop(2)", Scores.note(0, 2, 60)), OPEN, 0, -1);
         finds(s.with("line(0, 2, NONE)", "drop(2)", Scores.note(0, 2, 60)));
         finds(s.with(30, i -> "line(0, 0, 1)").with("end(29, NONE)"), OPEN, 29, -1);
@@ -300,22 +321,24 @@ public final class WalksFindingsBoundaryTest {
 
     private static void order() {
         cases.about("Terms", "in this order: by VOICES, in each by PLACES, each EVENT by these:");
-        Score s = Score.of("part(2)", "part(0)", "bar(1, 4)", "bar(1, 4)",
-            "put(3, 0, 0, 20, 1, 0)", "put(0, 0, 0, 27, 1, 0)", "tie(0, true)", "tie(1, true)", Scores.note(0, 1, 83), "put(3, 0, 3, 0, 3, 0)",
+        Score s = Score.of("part(2)", "part(0)", "bar(1, 4)", "bar(1, 4)", "put(3, 0, 0, 20, 1, 0)",
+            "put(0, 0, 0, 27, 1, 0)", "tie(0, true)", "tie(1, true)", Scores.note(0, 1, 83), "put(3, 0, 3, 0, 3, 0)",
             "line(0, 1, NONE)", "line(1, 2, 1)", "tuplet(3, 0, 1, 3, 2, 2)", "tuplet(0, 0, 1, 3, 2, 2)");
-        finds(s, OVER, 1, 0, TIE, 1, -1, RANGE, 1, -1, OVER, 2, 1, RANGE, 2, -1, LONG, 0, -1, OVER, 0, 0, TIE, 0, -1, RANGE, 0, -1, LONG, 3, -1,
-            SUM, 0, -1, SUM, 1, -1, OPEN, 0, -1, BACK, 1, -1);
+        finds(s, OVER, 1, 0, TIE, 1, -1, RANGE, 1, -1, OVER, 2, 1, RANGE, 2, -1, LONG, 0, -1, OVER, 0, 0, TIE, 0, -1,
+            RANGE, 0, -1, LONG, 3, -1, SUM, 0, -1, SUM, 1, -1, OPEN, 0, -1, BACK, 1, -1);
     }
 
     private static void check() {
         cases.about("Promise 26", "Looks for FINDINGS: how many (the first 100 are kept).");
         finds(Score.of());
         finds(Score.of("part(0)", "bar(1, 1)"));
-        finds(Scores.notes(4).with("bar(1, 1)", "bar(1, 1)", "check()", Scores.rest(0, 4), Scores.rest(0, 5), "put(0, 6, 3, 0, 1, 0)"));
+        finds(Scores.notes(4).with("bar(1, 1)", "bar(1, 1)", "check()", Scores.rest(0, 4), Scores.rest(0, 5),
+            "put(0, 6, 3, 0, 1, 0)"));
     }
 
     private static void finding() {
-        cases.about("Promise 27", "Of FINDING i of the latest check(): 0 its KIND, 1 of what, 2 BAR; NONE: none such. BAD: what.");
+        cases.about("Promise 27", "Of FINDING i of the latest check(): 0 its KIND, 1 of what, 2 BAR; NONE: none such. "
+            + "BAD: what.");
         Score two = Scores.notes(2).with("put(0, 2, 3, 0, 0, 0)", "bar(1, 4)", "bar(1, 4)", "bar(1, 4)", "check()");
         int[] want = {OVER, 2, 2, LONG, 0, -1};
         for (int i = 0; i < want.length; i++) {
@@ -333,19 +356,21 @@ public final class WalksFindingsBoundaryTest {
         cases.takes(Score.of(), "finding(0, 2)", NONE);
         cases.takes(Scores.notes(1), "finding(0, 0)", NONE);
         Score later = two.with("drop(2)", "drop(1)", "value(0, 2, 1)");
-        cases.answers(later, "finding(0, 0)", OVER, "finding(0, 1)", 2, "finding(1, 0)", LONG, "count(6)", 2, "check()", 2, "finding(0, 1)", 0,
-            "finding(1, 0)", SHORT);
+        cases.answers(later, "finding(0, 0)", OVER, "finding(0, 1)", 2, "finding(1, 0)", LONG, "count(6)", 2, "check()", 2,
+            "finding(0, 1)", 0, "finding(1, 0)", SHORT);
         cases.answers(two.with("drop(2)", "drop(1)", "drop(0)", "check()"), "finding(0, 0)", NONE, "count(6)", 0);
     }
 
     private static void findingsKept() {
         cases.about("Promise 26", "(the first 100 are kept)");
         for (int many : new int[] {99, 100, 101, 150}) {
-            Score graces = Score.of("part(0)", "part(0)").with(many, i -> "put(" + i / 40 + ", " + i % 40 + ", 2, 0, 2, 0)");
+            Score graces = Score.of("part(0)", "part(0)")
+                .with(many, i -> "put(" + i / 40 + ", " + i % 40 + ", 2, 0, 2, 0)");
             cases.takes(graces, "check()", many);
             Score then = graces.with("check()");
-            cases.answers(then, "count(6)", many, "finding(98, 1)", 98, "finding(99, 1)", many > 99 ? 99 : NONE, "finding(99, 0)", many > 99 ? RANGE : NONE,
-                "finding(100, 0)", NONE, "finding(100, 1)", NONE, "finding(149, 1)", NONE, "finding(0, 1)", 0);
+            cases.answers(then, "count(6)", many, "finding(98, 1)", 98, "finding(99, 1)", many > 99 ? 99 : NONE,
+                "finding(99, 0)", many > 99 ? RANGE : NONE, "finding(100, 0)", NONE, "finding(100, 1)", NONE,
+                "finding(149, 1)", NONE, "finding(0, 1)", 0);
         }
     }
 
@@ -372,10 +397,12 @@ public final class WalksFindingsBoundaryTest {
     private static void equalEvents() {
         cases.about("Promise 28", "Whether two VOICES have alike EVENTS, PLACE by PLACE: KIND, pitches, VALUE, DOTS, TIED");
         Score alike = Score.of("part(0)", "part(5)").with(5, i -> "put(0, " + i + ", " + i + ", 60, 2, 1)")
-            .with(5, i -> "put(5, " + i + ", " + i + ", " + (i > 2 ? -9 : 60) + ", 2, 1)").with("chord(1, 64)", "chord(6, 64)");
+            .with(5, i -> "put(5, " + i + ", " + i + ", " + (i > 2 ? -9 : 60) + ", 2, 1)").with("chord(1, 64)",
+            "chord(6, 64)");
         same(alike, 1);
-        for (String change : new String[] {"shift(5, 1)", "shift(6, 1)", "shift(7, -1)", "chord(6, 65)", "value(8, 3, 1)", "value(9, 2, 0)",
-            "value(5, 2, 2)", "tie(5, true)", "tie(6, true)", "tie(7, true)", "drop(9)", "drop(5)", Scores.rest(5, 0), Scores.rest(5, 5)}) {
+        for (String change : new String[] {"shift(5, 1)", "shift(6, 1)", "shift(7, -1)", "chord(6, 65)", "value(8, 3, 1)",
+            "value(9, 2, 0)", "value(5, 2, 2)", "tie(5, true)", "tie(6, true)", "tie(7, true)", "drop(9)", "drop(5)",
+            Scores.rest(5, 0), Scores.rest(5, 5)}) {
             same(alike.with(change), 0);
         }
         same(alike.with("drop(9)", "put(5, 4, 3, 0, 2, 1)"), 0);
@@ -394,13 +421,14 @@ public final class WalksFindingsBoundaryTest {
     }
 
     private static void equalTuplets() {
-        cases.about("Promise 28", "and TUPLETS with the same n, m, UNIT over the same PLACES, in the same order of their numbers");
+        cases.about("Promise 28", "and TUPLETS with the same n, m, UNIT over the same PLACES, in the same order of their "
+            + "numbers");
         Score plain = Score.of("part(0)", "part(0)").with(4, i -> Scores.rest(0, i)).with(4, i -> Scores.rest(5, i));
         Score one = plain.with("tuplet(0, 1, 2, 3, 2, 2)");
         same(one, 0);
         same(one.with("tuplet(5, 1, 2, 3, 2, 2)"), 1);
-        for (String other : new String[] {"0, 2, 3, 2, 2", "2, 2, 3, 2, 2", "1, 1, 3, 2, 2", "1, 3, 3, 2, 2", "1, 2, 6, 2, 2", "1, 2, 3, 1, 2",
-            "1, 2, 3, 2, 3"}) {
+        for (String other : new String[] {"0, 2, 3, 2, 2", "2, 2, 3, 2, 2", "1, 1, 3, 2, 2", "1, 3, 3, 2, 2", "1, 2, 6, 2, 2",
+            "1, 2, 3, 1, 2", "1, 2, 3, 2, 3"}) {
             same(one.with("tuplet(5, " + other + ")"), 0);
         }
         Score two = one.with("tuplet(0, 0, 4, 5, 4, 2)");
@@ -409,8 +437,17 @@ public final class WalksFindingsBoundaryTest {
         same(two.with("tuplet(5, 0, 4, 5, 4, 2)", "tuplet(5, 1, 2, 3, 2, 2)"), 0);
         same(two.with("tuplet(5, 1, 2, 3, 2, 2)", "tuplet(5, 0, 4, 5, 4, 2)", "tuplet(5, 0, 1, 3, 2, 2)"), 0);
         same(two.with("untuplet(0)", "untuplet(1)"), 1);
-        same(two.with("untuplet(0)", "tuplet(5, 0, 4, 5, 4, 2)", "tuplet(5, 1, 2, 3, 2, 2)", "tuplet(0, 1, 2, 3, 2, 2)"), 1);
-        same(two.with("tuplet(5, 1, 2, 3, 2, 2)", "tuplet(5, 0, 4, 5, 4, 2)", Scores.rest(1, 0), "tuplet(1, 0, 1, 7, 2, 2)"), 1);
-        same(plain.with("tuplet(0, 0, 4, 3, 2, 2)", "tuplet(0, 0, 4, 5, 4, 2)", "tuplet(5, 0, 4, 5, 4, 2)", "tuplet(5, 0, 4, 3, 2, 2)"), 0);
+        same(two.with("untuplet(0)", "tuplet(5, 0, 4, 5, 4, 2)", "tuplet(5, 1, 2, 3, 2, 2)",
+            "tuplet(0, 1, 2, 3, 2, 2)"), 1);
+        same(two.with("tuplet(5, 1, 2, 3, 2, 2)", "tuplet(5, 0, 4, 5, 4, 2)", Scores.rest(1, 0),
+            "tuplet(1, 0, 1, 7, 2, 2)"), 1);
+        Score between = one.with(Scores.rest(1, 0), "tuplet(1, 0, 1, 7, 2, 2)");
+        same(between, 0);
+        same(between.with("tuplet(5, 1, 2, 3, 2, 2)"), 1);
+        cases.takes(Scores.FULL_TUPLETS, "equal(0, 0)", 1);
+        same(Score.of("part(0)", "part(0)").with(10, i -> Scores.rest(0, i)).with(10, i -> Scores.rest(5, i))
+            .with(10, i -> "tuplet(0, " + i + ", 1, 3, 2, 2)").with(10, i -> "tuplet(5, " + i + ", 1, 3, 2, 2)"), 1);
+        same(plain.with("tuplet(0, 0, 4, 3, 2, 2)", "tuplet(0, 0, 4, 5, 4, 2)", "tuplet(5, 0, 4, 5, 4, 2)",
+            "tuplet(5, 0, 4, 3, 2, 2)"), 0);
     }
 }
