@@ -213,6 +213,12 @@ public final class PartsBarsEventsBoundaryTest {
             "lineAt(2, 0)", BAD, "lineAt(3, 2)", 2, "lineAt(4, 0)", BAD, "count(5)", 2);
         cases.refuses(then, BAD, "end(0, 1)", "end(2, NONE)", "end(4, NONE)");
         cases.answers(then, "line(0, 1, 2)", 5);
+        for (int kind = 0; kind <= 3; kind++) {
+            Score one = Scores.notes(2).with("line(" + kind + ", 1, 0)");
+            cases.takesAs(one, "drop(0)", 0, "end(0, NONE)", "drop(0)");
+            cases.answers(one.with("drop(0)"), "lineAt(0, 0)", kind, "lineAt(0, 1)", 1, "lineAt(0, 2)", NONE);
+            cases.answers(one.with("drop(1)"), "lineAt(0, 0)", BAD, "count(5)", 0);
+        }
     }
 
     private static void dropFromRacks() {

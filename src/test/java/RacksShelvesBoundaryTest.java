@@ -408,6 +408,8 @@ public final class RacksShelvesBoundaryTest {
         cases.takesAs(rests, "play(0, 0)", 1, "shift(2, -55)");
         cases.takesAs(rests.with("drop(2)", "shelf(0, 0, 0)"), "play(0, 0)", 0);
         cases.takesAs(RICH, "play(1, 2)", 0);
+        // Without a NOTE nothing of the SHELF is asked for, so that no ROW is missed.
+        cases.takesAs(RICH, "play(3, 2)", 0);
         Score full = Score.of("part(0)", "shelf(0, 0, 40)").with(40, i -> Scores.note(0, i, 60));
         cases.takes(full, "play(0, 0)", 40);
         cases.refuses(RICH, BAD, Call.each("play(?, 0)", NO_ROW_NUMBER));

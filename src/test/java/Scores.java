@@ -11,12 +11,13 @@ final class Scores {
         "put(0, 3, 3, 0, 2, 2)", "put(0, 4, 4, 0, 0, 0)", "put(0, 5, 0, 65, 1, 0)", "tie(5, true)",
         "put(4, 0, 0, 100, 2, 0)", "put(4, 0, 3, 0, 2, 0)", "line(3, 7, 6)", "drop(7)", "put(4, 1, 0, 30, 1, 0)",
         "tuplet(0, 0, 4, 3, 2, 2)", "tuplet(0, 1, 2, 5, 4, 3)", "tuplet(4, 0, 1, 7, 8, 5)", "untuplet(2)",
-        "line(2, 0, 1)", "line(0, 6, 8)", "line(1, 5, NONE)", "walk()", "check()", "put(1, 0, 0, 70, 2, 0)",
+        "line(2, 0, 1)", "line(0, 6, 8)", "line(1, 5, NONE)",
         "rack(0, 5, 3)", "hold(0, 0, 1)", "hold(0, 2, 3)", "rack(1, 0, 0)", "rack(2, 3, 2)", "hold(2, 0, 4)",
         "shelf(0, 0, 3)", "lift(0, 0, 60)", "lift(0, 2, 200)", "shelf(1, 1, 0)", "shelf(2, 2, 2)", "lift(2, 1, 40000)")
         .withRefused("held(3, 0)", "held(0, 3)", "held(0, 3)", "pitch(3, 0)", "pitch(3, 0)", "pitch(3, 0)",
             "hold(2, 1, 0)", "hold(2, 1, 0)", "hold(2, 1, 0)", "hold(2, 1, 0)",
-            "rack(3, 0, -1)", "rack(3, 0, -1)", "rack(3, 0, -1)", "rack(3, 0, -1)", "rack(3, 0, -1)");
+            "rack(3, 0, -1)", "rack(3, 0, -1)", "rack(3, 0, -1)", "rack(3, 0, -1)", "rack(3, 0, -1)")
+        .with("walk()", "check()", "put(1, 0, 0, 70, 2, 0)");
 
     /** One event of each KIND in voice 0, as long as a quarter; its number is its KIND. */
     static final Score KINDS = Score.of("part(0)")
