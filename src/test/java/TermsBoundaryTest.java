@@ -10,6 +10,7 @@ public final class TermsBoundaryTest {
     public static void main(String[] args) {
         numbersFromZeroOn();
         leastForm();
+        leastFormOfTheFinest();
         sixParts();
         voicesOfParts();
         heardByKinds();
@@ -58,6 +59,18 @@ public final class TermsBoundaryTest {
         cases.answers(quarters, "length(0, 0)", 2, "length(0, 1)", 1, "length(1, 0)", 0, "length(1, 1)", 1);
         cases.answers(Score.of("part(0)", "put(0, 0, 2, 60, 5, 2)"), "time(0, 0)", 0, "time(0, 1)", 1, "time(0, 2)", 0,
             "time(0, 3)", 1, "time(0, 4)", 0, "time(0, 5)", 1, "length(0, 0)", 0, "length(0, 1)", 1);
+    }
+
+    private static void leastFormOfTheFinest() {
+        cases.about("Terms", "in least form (0 is 0 / 1).");
+        // 7 / 4608, 1 / 800 and 1 / 1568: no finer sum can come, and nothing of it can be cut.
+        Score finest = Score.of("part(0)", "put(0, 0, 3, 0, 5, 2)", "put(0, 1, 3, 0, 5, 0)", "put(0, 2, 3, 0, 5, 0)",
+            "tuplet(0, 0, 1, 6, 1, 0)", "tuplet(0, 0, 1, 6, 1, 0)", "tuplet(0, 1, 1, 5, 1, 0)", "tuplet(0, 1, 1, 5, 1, 0)",
+            "tuplet(0, 2, 1, 7, 1, 0)", "tuplet(0, 2, 1, 7, 1, 0)");
+        cases.answers(finest, "length(0, 0)", 19231, "length(0, 1)", 5644800, "time(1, 0)", 7, "time(1, 1)", 4608,
+            "time(2, 0)", 319, "time(2, 1)", 115200, "time(2, 2)", 1, "time(2, 3)", 1568);
+        Score behind = finest.with("bar(1, 32)", Scores.rest(0, 3));
+        cases.answers(behind, "time(3, 0)", 19231, "time(3, 1)", 5644800, "time(3, 4)", 19231, "time(3, 5)", 5644800);
     }
 
     private static void sixParts() {
