@@ -75,6 +75,8 @@ final class Cases {
 
     private void look(Score score, String text, long answer, int status) {
         StaveScore made = score.make();
+        // A call that changes nothing, but leaves another status() than the one that is due.
+        Call.of(status == StaveScore.BAD ? "walked(-1)" : "part(-1)").on(made);
         int[] failures = new int[FAILURE_KINDS];
         for (int kind = 0; kind < FAILURE_KINDS; kind++) {
             failures[kind] = made.failures(kind);
