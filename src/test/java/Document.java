@@ -2,6 +2,8 @@ import java.io.IOException;
 import java.io.UncheckedIOException;
 import java.nio.file.Files;
 import java.nio.file.Path;
+import java.util.ArrayList;
+import java.util.List;
 import java.util.Map;
 import java.util.Set;
 import java.util.TreeMap;
@@ -13,6 +15,7 @@ import java.util.regex.Pattern;
 final class Document {
     private static final Path FILE = Path.of("../shared/DOC.md");
     private static final Pattern REFUSAL = Pattern.compile("\\b(NONE|BAD|STATE|FULL|NULL|INDEX|CAST|STORE|SIZE)\\b");
+    private static final Pattern METHOD = Pattern.compile("public (?:int|long) (\\w+\\([^)]*\\));");
     private static final Map<String, String> SECTIONS = read();
 
     private Document() {
@@ -35,6 +38,16 @@ final class Document {
             words.add(found.group());
         }
         return words;
+    }
+
+    /** The methods of the face, in its order, without their types: "part(kind)". */
+    static List<String> face() {
+        List<String> methods = new ArrayList<>();
+        Matcher found = METHOD.matcher(section("The public face"));
+        while (found.find()) {
+            methods.add(found.group(1).replaceAll("\\b(int|boolean) ", ""));
+        }
+        return methods;
     }
 
     private static Map<String, String> read() {
