@@ -34,6 +34,7 @@ public final class ReadmeTest {
         calls(readme);
         constants(readme);
         meanings(readme);
+        instruments(readme);
         tests(readme);
         paths(readme);
         due.finish();
@@ -132,7 +133,32 @@ public final class ReadmeTest {
             boolean said = Document.says("Terms", pair.group()) || Document.says("Terms", pair.group(2) + " (" + pair.group(1));
             due.holds("\"Terms\" says " + pair.group(), said);
         }
-        due.is("kinds of parts, events, lines, shelves and findings", pairs, 6 + 5 + 4 + 4 + 8);
+        due.is("kinds of parts (twice), events, lines, shelves and findings", pairs, 6 + 6 + 5 + 4 + 4 + 8);
+    }
+
+    /** The table of instruments, against what they tell. */
+    private static void instruments(String readme) {
+        List<String[]> rows = rows(readme, "\\d [A-Z ]+");
+        due.is("instruments", rows.size(), 6);
+        for (String[] row : rows) {
+            StaveScore score = new StaveScore();
+            score.part(Integer.parseInt(row[0].substring(0, 1)));
+            for (int pitch : new int[] {0, 60, 127}) {
+                long asked = score.trace();
+                due.is(row[0] + ", heard of " + pitch, score.asks(0, 0, pitch), heard(row[1], pitch));
+                due.is(row[0] + ", trace() of heard", score.trace() - asked, Long.parseLong(row[2]));
+            }
+            long asked = score.trace();
+            due.is(row[0] + ", least", score.asks(0, 1, 0), Long.parseLong(row[3]));
+            due.is(row[0] + ", trace() of least", score.trace() - asked, Long.parseLong(row[4]));
+            due.is(row[0] + ", most", score.asks(0, 2, 0), Long.parseLong(row[5]));
+            due.is(row[0] + ", trace() of most", score.trace() - asked, Long.parseLong(row[4]));
+        }
+    }
+
+    private static int heard(String told, int pitch) {
+        int number = told.equals("the pitch") ? 0 : Integer.parseInt(told.replaceAll("\\D", ""));
+        return told.startsWith("always") ? number : pitch - number;
     }
 
     private static void tests(String readme) throws IOException {
